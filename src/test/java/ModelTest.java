@@ -1,0 +1,120 @@
+import java.lang.reflect.Method;
+import java.util.Random;
+
+/** Long runs of calls, held against the model: each run has the seed of its number, so it is the same every time. */
+final class ModelTest {
+    private static final int RUNS = 400;
+    private static final int CALLS = 512;
+    private static final int[] FAR = {
+        Integer.MIN_VALUE, Integer.MAX_VALUE, -1, -2, -3, -4, -5, -6, -7, 10, 11, 12, 24, 25, 26, 32, 64, 1 << 20
+    };
+    /** What the arguments of each call are, and how often it comes; an argument is told by its greatest value. */
+    private static final Object[][] CALLS_OF = {
+        {"set", 3, 1, 24}, {"add", 30}, {"drop", 2, 23}, {"ear", 3, 3}, {"hear", 10, 3, 25, 9}, {"second", 25, 3, 25, 9},
+        {"habits", 6, 3, 7}, {"merge", 8, 3, 9, 9}, {"split", 6, 3}, {"name", 3, 23, 11}, {"of", 8, 3, 25, 2},
+        {"ofEar", 15, 3, 7}, {"code", 20, 3, 23, 3, 6}, {"drawer", 12, 3, 40, 1}, {"count", 5, 6}, {"alike", 6, 3, 23, 23},
+        {"distance", 4, 23, 23}, {"find", 12, 3, 5, 1}, {"ifMerged", 8, 3, 9, 9, 1}, {"bestMerger", 2, 3, 2},
+        {"quarrel", 5, 3, 3}, {"deafest", 2}, {"put", 30}, {"wipe", 3}, {"fault", 3}, {"undo", 4}, {"save", 2, 1},
+        {"restore", 2, 1}
+    };
+
+    private ModelTest() { }
+
+    static void run() throws ReflectiveOperationException {
+        Check.part("runs against the model");
+        for (int run = 0; run < RUNS; run++) oneRun(run);
+    }
+
+    private static void oneRun(int run) throws ReflectiveOperationException {
+        Random random = new Random(run);
+        ConsonantIndex x = new ConsonantIndex();
+        Model model = new Model();
+        // Some runs are to come to full indexes, others to live with many dropped and undone changes.
+        boolean growing = run % 3 == 0;
+        String letters = run % 2 == 0 ? "abcdefghijklmnopqrstuvwxyz" : "aschtpbr";
+        if (run % 4 != 3) {
+            x.ear(-6);
+            model.ear(-6);
+        }
+        StringBuilder told = new StringBuilder();
+        for (int call = 0; call < CALLS; call++) {
+            Object[] what = pick(random);
+            String name = (String) what[0];
+            if (growing && (name.equals("drop") || name.equals("undo") || name.equals("restore"))) continue;
+            if (growing && name.equals("set") && random.nextInt(4) != 0) continue;
+            if (name.equals("add") && random.nextInt(3) != 0) typeName(x, model, random, letters);
+            Object[] arguments = name.equals("put") ? new Object[] {text(random, letters)} : arguments(what, random, x);
+            int got = answer(x, name, arguments);
+            int due = answer(model, name, arguments);
+            if (got == due) {
+                Check.passed++;
+                continue;
+            }
+            told.append("run ").append(run).append(", call ").append(call).append(": ").append(name);
+            told.append(java.util.Arrays.toString(arguments));
+            Check.due(told.toString(), got, due);
+            return;
+        }
+    }
+
+    private static Object[] pick(Random random) {
+        int all = 0;
+        for (Object[] call : CALLS_OF) all += (Integer) call[1];
+        int left = random.nextInt(all);
+        for (Object[] call : CALLS_OF) {
+            left -= (Integer) call[1];
+            if (left < 0) return call;
+        }
+        return CALLS_OF[0];
+    }
+
+    private static Object[] arguments(Object[] what, Random random, ConsonantIndex x) {
+        Object[] arguments = new Object[what.length - 2];
+        for (int i = 0; i < arguments.length; i++) {
+            int most = (Integer) what[i + 2];
+            // Ears and names are mostly ones that there are.
+            if (most == 3 && i == 0) most = Math.max(0, x.count(1) - 1);
+            if (most == 23) most = Math.max(0, x.count(0) - 1);
+            int value = random.nextInt(most + 1);
+            if (random.nextInt(30) == 0) value = FAR[random.nextInt(FAR.length)];
+            if (random.nextInt(30) == 0) value = most + 1;
+            arguments[i] = value;
+        }
+        if (what[0].equals("ear") && random.nextBoolean()) arguments[0] = -6;
+        if (what[0].equals("second") && random.nextInt(8) == 0) arguments[2] = -6;
+        return arguments;
+    }
+
+    private static void typeName(ConsonantIndex x, Model model, Random random, String letters) {
+        int size = 1 + random.nextInt(random.nextBoolean() ? 10 : 4);
+        x.wipe();
+        model.wipe();
+        while (size > 0) {
+            int part = Math.min(8, size);
+            long characters = signs(random, letters, part);
+            x.put(characters);
+            model.put(characters);
+            size -= part;
+        }
+    }
+
+    private static long signs(Random random, String letters, int many) {
+        long characters = 0;
+        for (int i = 0; i < many; i++) characters = characters << 8 | letters.charAt(random.nextInt(letters.length()));
+        return characters;
+    }
+
+    private static long text(Random random, String letters) {
+        long characters = signs(random, letters, 1 + random.nextInt(8));
+        if (random.nextInt(12) == 0) characters ^= (long) random.nextInt(256) << 8 * random.nextInt(8);
+        if (random.nextInt(40) == 0) characters = random.nextLong();
+        return characters;
+    }
+
+    private static int answer(Object index, String name, Object[] arguments) throws ReflectiveOperationException {
+        Class<?>[] types = new Class<?>[arguments.length];
+        for (int i = 0; i < types.length; i++) types[i] = arguments[i] instanceof Long ? long.class : int.class;
+        Method method = index.getClass().getMethod(name, types);
+        return (Integer) method.invoke(index, arguments);
+    }
+}
