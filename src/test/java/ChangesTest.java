@@ -98,6 +98,9 @@ final class ChangesTest {
         Check.due("add() of the 25th", Check.addName(full, "nz"), Check.TOO_MANY);
         Check.due("the pad stays", full.count(4), 2);
         Check.due("the last one", Check.nameAt(full, 23), "nx");
+        Check.due("drop(0) of 24", full.drop(0), 23);
+        Check.due("the last one", Check.nameAt(full, 22), "nx");
+        Check.due("name(23, 0)", full.name(23, 0), Check.NO_SUCH);
     }
 
     private static void drop() {
@@ -156,11 +159,39 @@ final class ChangesTest {
         Check.refused(x, "ear(4), the fifth", () -> x.ear(4), Check.NO_SUCH);
         x.undo();
         x.undo();
+        x.save(0);
+        x.ear(Check.NONE);
+        x.habits(2, 7);
+        x.merge(2, 1, 3);
+        x.second(2, 3, 5);
+        x.restore(0);
         x.hear(1, 3, 9);
         Check.due("ear(NONE) where one was taken back", x.ear(Check.NONE), 2);
-        Check.due("it is as at first", x.of(2, 3, 0), 3);
+        Check.due("it has its classes at first", x.of(2, 3, 0), 3);
+        Check.due("it has its second classes at first", x.of(2, 3, 1), Check.NONE);
+        Check.due("it has its habits at first", x.ofEar(2, 0), 0);
+        Check.due("it has its mergers at first", x.ofEar(2, 1), 0);
         Check.due("ear(1)", x.ear(1), 3);
         Check.due("it is as the model is now", x.of(3, 3, 0), 9);
+        earWithMergers();
+    }
+
+    private static void earWithMergers() {
+        ConsonantIndex x = new ConsonantIndex();
+        x.ear(Check.NONE);
+        x.second(0, Check.letter('a'), 6);
+        x.merge(0, 3, 6);
+        x.merge(0, 1, 4);
+        x.ear(0);
+        Check.due("split(1), the latest", x.split(1), 4);
+        Check.due("of(1, l, 0)", x.of(1, Check.letter('l'), 0), 4);
+        Check.due("of(1, b, 0)", x.of(1, Check.letter('b'), 0), 1);
+        Check.due("split(1), the one before", x.split(1), 6);
+        Check.due("of(1, r, 0)", x.of(1, Check.letter('r'), 0), 6);
+        Check.due("of(1, a, 1)", x.of(1, Check.letter('a'), 1), 6);
+        Check.due("split(1) without mergers", x.split(1), Check.NOT_POSSIBLE);
+        Check.due("the model keeps its mergers", x.ofEar(0, 1), 2);
+        Check.due("the model keeps its classes", x.of(0, Check.letter('r'), 0), 3);
     }
 
     private static void hear() {
@@ -378,6 +409,15 @@ final class ChangesTest {
         x.second(0, 1, 1);
         Check.due("split(0)", x.split(0), 9);
         Check.due("a second class that is another one now stays", x.of(0, 1, 1), 1);
+        ConsonantIndex y = new ConsonantIndex();
+        y.ear(Check.NONE);
+        Check.refused(y, "split(0) without mergers", () -> y.split(0), Check.NOT_POSSIBLE);
+        for (int letter = 0; letter < 26; letter++) y.second(0, letter, 9);
+        y.merge(0, 9, 8);
+        y.split(0);
+        for (int letter = 0; letter < 26; letter++) {
+            Check.due("second class of letter " + letter + " that was there before", y.of(0, letter, 1), 9);
+        }
     }
 
     private static void mergersForgotten() {
@@ -396,5 +436,23 @@ final class ChangesTest {
         Check.due("split(0) of a forgotten one", x.split(0), Check.NOT_POSSIBLE);
         Check.due("its letters stay", x.ofEar(0, 7), Check.letters("aehiouwybfpv"));
         Check.due("those of the others do not", x.of(0, 18, 0), 2);
+        ConsonantIndex y = new ConsonantIndex();
+        y.ear(Check.NONE);
+        y.second(0, 0, 4);
+        // The classes of r and l, and the second class of a, go from class to class.
+        int[][] mergers = {{6, 1}, {7, 6}, {8, 4}, {9, 8}, {3, 2}, {4, 3}, {5, 9}};
+        for (int[] merger : mergers) y.merge(0, merger[0], merger[1]);
+        int[] ofR = {7, 7, 7, 7, 7, 6};
+        int[] ofL = {9, 9, 9, 8, 4, 4};
+        int[] ofS = {4, 3, 2, 2, 2, 2};
+        for (int i = 0; i < 6; i++) {
+            Check.due("split " + i, y.split(0), mergers[6 - i][1]);
+            Check.due("class of r behind split " + i, y.of(0, 17, 0), ofR[i]);
+            Check.due("class of l behind split " + i, y.of(0, 11, 0), ofL[i]);
+            Check.due("class of s behind split " + i, y.of(0, 18, 0), ofS[i]);
+            Check.due("second class of a behind split " + i, y.of(0, 0, 1), ofL[i]);
+        }
+        Check.due("split(0) of a forgotten one", y.split(0), Check.NOT_POSSIBLE);
+        Check.due("its letters stay", y.of(0, 1, 0), 6);
     }
 }

@@ -9,6 +9,7 @@ final class PastTest {
         undo();
         undoOfEachChange();
         whatIsNoChange();
+        errorsRecordNothing();
         save();
         restore();
         settingsAndEarsAreSaved();
@@ -91,6 +92,36 @@ final class PastTest {
         Check.due("count(5)", x.count(5), changes);
     }
 
+    /** On an object whose history is not full, so that one more would be seen. */
+    private static void errorsRecordNothing() {
+        Check.part("promise 27, errors record nothing");
+        ConsonantIndex x = new ConsonantIndex();
+        x.ear(Check.NONE);
+        Change[] errors = {
+            y -> y.set(0, 6), y -> y.set(1, 25), y -> y.set(2, 1), y -> y.add(), y -> y.drop(0), y -> y.ear(1),
+            y -> y.hear(1, 0, 0), y -> y.hear(0, 26, 0), y -> y.hear(0, 0, 10), y -> y.second(1, 0, 1),
+            y -> y.second(0, 26, 1), y -> y.second(0, 0, 10), y -> y.second(0, 0, 0), y -> y.habits(1, 0),
+            y -> y.habits(0, 8), y -> y.merge(1, 1, 2), y -> y.merge(0, 1, 1), y -> y.merge(0, 10, 1), y -> y.split(1),
+            y -> y.split(0), y -> y.restore(2), y -> y.restore(0)
+        };
+        for (int i = 0; i < errors.length; i++) {
+            int answer = errors[i].on(x);
+            Check.due("error " + i + " is one", answer < 0 && answer != Check.NONE ? 1 : 0, 1);
+            Check.due("count(5) behind error " + i, x.count(5), 1);
+        }
+        for (int i = 0; i < 3; i++) x.ear(Check.NONE);
+        Check.due("ear(NONE), the fifth", x.ear(Check.NONE), Check.TOO_MANY);
+        Check.due("count(5) behind it", x.count(5), 4);
+        Check.due("undo()", x.undo(), 3);
+        Check.due("count(1)", x.count(1), 3);
+        ConsonantIndex names = Check.withNames("ada");
+        Check.due("a name that there is", Check.addName(names, "ada"), Check.NOT_POSSIBLE);
+        Check.due("count(5) behind it", names.count(5), 1);
+        names.set(1, 1);
+        Check.due("one name more", Check.addName(names, "ben"), Check.TOO_MANY);
+        Check.due("count(5) behind it", names.count(5), 2);
+    }
+
     private static void save() {
         Check.part("promise 28, save");
         ConsonantIndex x = Check.withNames("ada", "ben");
@@ -146,6 +177,8 @@ final class PastTest {
         x.second(1, 1, 9);
         x.habits(1, 5);
         x.merge(1, 3, 2);
+        x.drop(1);
+        x.undo();
         String saved = Check.pictureWithoutPad(x);
         x.save(1);
         x.split(1);

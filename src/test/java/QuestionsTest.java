@@ -222,6 +222,8 @@ final class QuestionsTest {
         Check.due("drawer(0, 96, 0)", x.drawer(0, 96, 0), Check.NO_SUCH);
         Check.due("drawer(0, 96, 1)", x.drawer(0, 96, 1), Check.NO_SUCH);
         Check.due("code(0, 23, 3, 6)", x.code(0, 23, 3, 6), 95);
+        Check.due("find of the last one", Check.find(x, "tatcam", 0, 0, 0), 23);
+        Check.due("find of no other one", Check.find(x, "tatcam", 0, 1, 0), Check.NO_SUCH);
         // tatr?? is 3 3 6 ..: the last ones by their codes begin with 7 7 6
         Check.due("drawer(0, 95, 1)", x.drawer(0, 95, 1), 1 << 6);
         Check.due("drawer(0, 0, 1)", x.drawer(0, 0, 1), 1);
@@ -330,6 +332,23 @@ final class QuestionsTest {
         ConsonantIndex empty = new ConsonantIndex();
         empty.ear(Check.NONE);
         Check.due("without names", Check.find(empty, "tim", 0, 0, 0), Check.NO_SUCH);
+        Check.addName(empty, "tom");
+        Check.due("a name that has just come", Check.find(empty, "tim", 0, 0, 0), 0);
+        empty.habits(0, 4);
+        Check.due("a habit that has just come", Check.find(empty, "dim", 0, 0, 0), Check.NO_SUCH);
+        findInFull();
+    }
+
+    private static void findInFull() {
+        ConsonantIndex full = new ConsonantIndex();
+        for (int i = 0; i < 24; i++) Check.addName(full, "t" + "aeio".charAt(i / 6) + "m" + "aeiouy".charAt(i % 6));
+        full.ear(Check.NONE);
+        int rank = 0;
+        for (int name = 5; name < 24; name += 6) Check.due("a near one of 24", Check.find(full, "tumy", 0, rank++, 0), name);
+        for (int name = 0; name < 24; name++) {
+            if (name % 6 != 5) Check.due("a far one of 24", Check.find(full, "tumy", 0, rank++, 0), name);
+        }
+        Check.due("rank 24 of 24", Check.find(full, "tumy", 0, 24, 0), Check.NO_SUCH);
     }
 
     private static void findErrors(ConsonantIndex x) {
