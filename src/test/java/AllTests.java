@@ -1,6 +1,6 @@
 import java.nio.file.Path;
 
-/** Runs every test of the project. The one argument is the path of the class's source. */
+/** Runs every test of the project. The arguments are the paths of the class's source and of the document. */
 public final class AllTests {
     private AllTests() { }
 
@@ -10,7 +10,14 @@ public final class AllTests {
         SupposingTest.run();
         TextsTest.run();
         PastTest.run();
+        TermsSentences.run();
+        EarsSentences.run();
+        ChangesSentences.run();
+        QuestionsSentences.run();
+        OthersSentences.run();
+        LedgerTest.run(Path.of(arguments[1]));
         RoomTest.run();
+        GridTest.run();
         ModelTest.run();
         LanguageTest.run(Path.of(arguments[0]));
         System.out.println("tests of the project: " + Check.passed + " passed, " + Check.failed + " failed");

@@ -1,4 +1,5 @@
 import java.util.function.IntSupplier;
+import java.util.function.IntUnaryOperator;
 
 /** What the tests share: counting of answers, typing of texts, and a picture of all that an index can be asked. */
 final class Check {
@@ -46,6 +47,16 @@ final class Check {
         refused(x, call, calling, want);
     }
 
+    /** The call has that answer for each of these numbers. */
+    static void dueForAll(String told, int[] numbers, IntUnaryOperator call, int want) {
+        for (int number : numbers) due(told + " with " + number, call.applyAsInt(number), want);
+    }
+
+    /** Numbers just and far outside a range. */
+    static int[] outside(int least, int most) {
+        return new int[] {least - 1, most + 1, least - 256, most + 256, most + 65536, Integer.MIN_VALUE, Integer.MAX_VALUE};
+    }
+
     static long characters(String text) {
         long characters = 0;
         for (int i = 0; i < text.length(); i++) characters = characters << 8 | text.charAt(i);
@@ -90,6 +101,44 @@ final class Check {
         if (size < 0) return "error " + size;
         StringBuilder text = new StringBuilder("code");
         for (int place = 0; place < size; place++) text.append(' ').append(x.code(ear, name, which, place));
+        return text.toString();
+    }
+
+    /** All codes of a name, as "3 5, 3 8 5"; a code without numbers as "-". */
+    static String codes(ConsonantIndex x, int ear, int name) {
+        StringBuilder text = new StringBuilder();
+        for (int which = 0; which < 9 && x.code(ear, name, which, 5) >= 0; which++) {
+            if (which > 0) text.append(", ");
+            String code = codeOf(x, ear, name, which);
+            text.append(code.equals("code") ? "-" : code.substring(5));
+        }
+        return text.toString();
+    }
+
+    /** The codes of a name by an ear that is as ears are at first, but for what the call changes. */
+    static String codes(String name, Sentence.Call change) {
+        ConsonantIndex x = withNames(name);
+        x.ear(NONE);
+        change.on(x);
+        return codes(x, 0, 0);
+    }
+
+    /** The names of all drawers of an ear, as "0 2, 1". */
+    static String drawers(ConsonantIndex x, int ear, int order) {
+        StringBuilder text = new StringBuilder();
+        for (int drawer = 0; drawer < 99 && x.drawer(ear, drawer, order) >= 0; drawer++) {
+            if (drawer > 0) text.append(", ");
+            text.append(numbers(x.drawer(ear, drawer, order)));
+        }
+        return text.toString();
+    }
+
+    /** A set as "0 2". */
+    static String numbers(int set) {
+        StringBuilder text = new StringBuilder();
+        for (int number = 0; number < 32; number++) {
+            if ((set & 1 << number) != 0) text.append(text.length() > 0 ? " " : "").append(number);
+        }
         return text.toString();
     }
 

@@ -299,21 +299,33 @@ public final class Model {
         if (!isEar(ear)) return NO_SUCH;
         if (!in(what, 0, 7)) return BAD_VALUE;
         Ear listener = now.ears.get(ear);
-        int fullest = 0;
-        for (List<Integer> code : drawers(listener)) {
-            fullest = Math.max(fullest, Integer.bitCount(namesIn(listener, code)));
-        }
-        int several = 0;
-        for (int name = 0; name < now.names.size(); name++) {
-            if (listener.codes(now.names.get(name), now.length).size() >= 2) several |= 1 << name;
+        switch (what) {
+            case 0: return listener.habits;
+            case 1: return listener.mergers.size();
+            case 2: return drawers(listener).size();
+            case 3: return fullest(listener);
+            case 4: return severals(listener);
+            case 5: return pairs(listener);
+            case 7: return listener.setOf(0);
+            default: break;
         }
         int withSecond = 0;
         for (char sign : listener.seconds.keySet()) withSecond |= 1 << sign - 'a';
-        int[] answers = {
-            listener.habits, listener.mergers.size(), drawers(listener).size(), fullest, several, pairs(listener),
-            withSecond, listener.setOf(0)
-        };
-        return answers[what];
+        return withSecond;
+    }
+
+    private int fullest(Ear ear) {
+        int fullest = 0;
+        for (List<Integer> code : drawers(ear)) fullest = Math.max(fullest, Integer.bitCount(namesIn(ear, code)));
+        return fullest;
+    }
+
+    private int severals(Ear ear) {
+        int severals = 0;
+        for (int name = 0; name < now.names.size(); name++) {
+            if (ear.codes(now.names.get(name), now.length).size() >= 2) severals |= 1 << name;
+        }
+        return severals;
     }
 
     public int code(int ear, int name, int which, int place) {

@@ -111,7 +111,7 @@ final class ModelTest {
         return characters;
     }
 
-    private static int answer(Object index, String name, Object[] arguments) throws ReflectiveOperationException {
+    static int answer(Object index, String name, Object[] arguments) throws ReflectiveOperationException {
         Class<?>[] types = new Class<?>[arguments.length];
         for (int i = 0; i < types.length; i++) types[i] = arguments[i] instanceof Long ? long.class : int.class;
         Method method = index.getClass().getMethod(name, types);
