@@ -25,8 +25,8 @@ final class ChangesSentences {
     }
 
     /** Two ears, the second one with all that an ear can have; names on the way; fewer changes than the history keeps. */
-    private static ConsonantIndex some() {
-        ConsonantIndex x = Check.withNames("tas", "bola");
+    private static Index some() {
+        Index x = Check.withNames("tas", "bola");
         x.ear(Check.NONE);
         x.ear(Check.NONE);
         x.hear(1, A, 7);
@@ -42,7 +42,7 @@ final class ChangesSentences {
     private static void newObject() {
         Sentence.under("Promise 1: A new object");
         Sentence.of("Creates an index without names and ears.");
-        ConsonantIndex x = new ConsonantIndex();
+        Index x = new Index();
         Check.due("names", x.count(0), 0);
         Check.due("ears", x.count(1), 0);
         Check.due("the pad", x.count(4), 0);
@@ -58,7 +58,7 @@ final class ChangesSentences {
     private static void set() {
         Sentence.under("Promise 2: set");
         Sentence.of("Changes a setting (names that there are stay).");
-        ConsonantIndex x = Check.withNames("bcdlm", "ada", "zoe");
+        Index x = Check.withNames("bcdlm", "ada", "zoe");
         x.ear(Check.NONE);
         x.set(NAMES, 1);
         Check.due("names", x.count(0), 3);
@@ -74,7 +74,7 @@ final class ChangesSentences {
         Sentence.isChange(ChangesSentences::some, "set(NAMES, 1)", y -> y.set(NAMES, 1), 24);
         Sentence.isChange(ChangesSentences::some, "set(NAMES, 24)", y -> y.set(NAMES, 24), 24);
         Sentence.of("Returns the previous value;");
-        ConsonantIndex z = new ConsonantIndex();
+        Index z = new Index();
         int[] lengths = {4, 5, 1, 1, 3};
         for (int i = 1; i < lengths.length; i++) Check.due("LENGTH", z.set(LENGTH, lengths[i]), lengths[i - 1]);
         int[] names = {24, 1, 23, 23, 24, 2};
@@ -91,7 +91,7 @@ final class ChangesSentences {
     private static void add() {
         Sentence.under("Promise 3: add");
         Sentence.of("The name that the pad tells comes, and the pad is emptied.");
-        ConsonantIndex x = new ConsonantIndex();
+        Index x = new Index();
         x.put(Check.characters("abcdefgh"));
         x.put(Check.characters("ij"));
         Check.due("add()", x.add(), 0);
@@ -103,14 +103,14 @@ final class ChangesSentences {
         Check.due("the name", Check.nameAt(x, 1), "k");
         Check.due("the name before", Check.nameAt(x, 0), "abcdefghij");
         Sentence.of("This is a change.");
-        Supplier<ConsonantIndex> typed = () -> {
-            ConsonantIndex y = some();
+        Supplier<Index> typed = () -> {
+            Index y = some();
             Check.type(y, "mia");
             return y;
         };
         Sentence.isChange(typed, "add()", y -> y.add(), 2);
         Sentence.of("Returns its number;");
-        ConsonantIndex z = new ConsonantIndex();
+        Index z = new Index();
         for (int i = 0; i < 24; i++) Check.due("add()", Check.addName(z, "" + (char) ('z' - i)), i);
         z.drop(11);
         Check.due("add() where one was dropped", Check.addName(z, "new"), 23);
@@ -118,7 +118,7 @@ final class ChangesSentences {
 
     private static void addErrors() {
         Sentence.of("BAD_TEXT if the pad has a fault;");
-        ConsonantIndex x = Check.withNames("ada", "zoe");
+        Index x = Check.withNames("ada", "zoe");
         Check.due("add() of nothing", Check.addName(x, ""), Check.BAD_TEXT);
         for (String text : new String[] {"A", "adA", "!ada", "ada_", "abcdefghijk", "abcdefghi~", "~~~~~~~~~~~~"}) {
             Check.due("add() of " + text, Check.addName(x, text), Check.BAD_TEXT);
@@ -151,7 +151,7 @@ final class ChangesSentences {
         Sentence.under("Promise 4: drop");
         Sentence.of("A name is dropped.");
         for (int dropped = 0; dropped < 4; dropped++) {
-            ConsonantIndex x = Check.withNames("ada", "bo", "cleo", "di");
+            Index x = Check.withNames("ada", "bo", "cleo", "di");
             x.ear(Check.NONE);
             String[] names = {"ada", "bo", "cleo", "di"};
             x.drop(dropped);
@@ -164,12 +164,12 @@ final class ChangesSentences {
         Sentence.isChange(ChangesSentences::some, "drop(0)", y -> y.drop(0), 1);
         Sentence.isChange(ChangesSentences::some, "drop(1)", y -> y.drop(1), 1);
         Sentence.of("Returns how many names are left;");
-        ConsonantIndex x = new ConsonantIndex();
+        Index x = new Index();
         for (int i = 0; i < 24; i++) Check.addName(x, "n" + (char) ('a' + i));
         for (int left = 23; left >= 0; left--) Check.due("drop", x.drop(left / 2), left);
         Sentence.of("NO_SUCH if there is no such name.");
         Check.due("drop(0) without names", x.drop(0), Check.NO_SUCH);
-        ConsonantIndex two = some();
+        Index two = some();
         Check.dueForAll("drop", Check.outside(0, 1), two::drop, Check.NO_SUCH);
         Check.due("drop(NONE)", two.drop(Check.NONE), Check.NO_SUCH);
         Check.due("drop(23)", two.drop(23), Check.NO_SUCH);
@@ -179,7 +179,7 @@ final class ChangesSentences {
     private static void ear() {
         Sentence.under("Promise 5: ear");
         Sentence.of("An ear comes.");
-        ConsonantIndex x = new ConsonantIndex();
+        Index x = new Index();
         x.ear(Check.NONE);
         Check.due("ears", x.count(1), 1);
         Check.due("class of t", x.of(0, T, 0), 3);
@@ -187,7 +187,7 @@ final class ChangesSentences {
         Sentence.isChange(ChangesSentences::some, "ear(NONE)", y -> y.ear(Check.NONE), 2);
         Sentence.isChange(ChangesSentences::some, "ear(1)", y -> y.ear(1), 2);
         Sentence.of("as: an ear: it has its classes, second ones too, habits and mergers; or NONE: it is as ears are at first");
-        ConsonantIndex y = some();
+        Index y = some();
         y.ear(1);
         y.ear(Check.NONE);
         for (int letter = 0; letter < 26; letter++) {
@@ -215,7 +215,7 @@ final class ChangesSentences {
 
     /** An ear comes where one with other mergers was undone. */
     private static void mergersOfEar() {
-        ConsonantIndex x = new ConsonantIndex();
+        Index x = new Index();
         x.ear(Check.NONE);
         x.second(0, A, 6);
         x.second(0, S, 9);
@@ -243,16 +243,16 @@ final class ChangesSentences {
 
     private static void earErrors() {
         Sentence.of("Returns its number;");
-        ConsonantIndex x = new ConsonantIndex();
+        Index x = new Index();
         Check.due("ear(NONE)", x.ear(Check.NONE), 0);
         Check.due("ear(0)", x.ear(0), 1);
         Check.due("ear(NONE)", x.ear(Check.NONE), 2);
         Check.due("ear(2)", x.ear(2), 3);
         Sentence.of("NO_SUCH if there is no such ear;");
-        ConsonantIndex none = new ConsonantIndex();
+        Index none = new Index();
         Check.due("ear(0) without ears", none.ear(0), Check.NO_SUCH);
         Check.due("ear(-1) without ears", none.ear(-1), Check.NO_SUCH);
-        ConsonantIndex two = some();
+        Index two = some();
         for (int as : NO_EARS_OF_TWO) {
             if (as != Check.NONE) Check.due("ear(" + as + ")", two.ear(as), Check.NO_SUCH);
         }
@@ -272,7 +272,7 @@ final class ChangesSentences {
     private static void hear() {
         Sentence.under("Promise 6: hear");
         Sentence.of("Changes the class of a letter.");
-        ConsonantIndex x = some();
+        Index x = some();
         x.hear(0, T, 6);
         Check.due("class of t", x.of(0, T, 0), 6);
         Check.due("class of d", x.of(0, 3, 0), 3);
@@ -302,7 +302,7 @@ final class ChangesSentences {
         Sentence.of("NO_SUCH if there is no such ear or letter;");
         Check.dueForAll("ear", NO_EARS_OF_TWO, n -> x.hear(n, T, 5), Check.NO_SUCH);
         Check.dueForAll("letter", Check.outside(0, 25), n -> x.hear(0, n, 5), Check.NO_SUCH);
-        Check.dueForAll("ear without ears", new int[] {0, 1, -1}, n -> new ConsonantIndex().hear(n, T, 5), Check.NO_SUCH);
+        Check.dueForAll("ear without ears", new int[] {0, 1, -1}, n -> new Index().hear(n, T, 5), Check.NO_SUCH);
         Sentence.of("BAD_VALUE if kind is out of range.");
         Check.dueForAll("kind", Check.outside(0, 9), n -> x.hear(0, T, n), Check.BAD_VALUE);
         Check.due("kind NONE", x.hear(0, T, Check.NONE), Check.BAD_VALUE);
@@ -312,7 +312,7 @@ final class ChangesSentences {
     private static void second() {
         Sentence.under("Promise 7: second");
         Sentence.of("Changes the second class of a letter.");
-        ConsonantIndex x = some();
+        Index x = some();
         x.second(0, T, 6);
         Check.due("second class of t", x.of(0, T, 1), 6);
         Check.due("class of t", x.of(0, T, 0), 3);
@@ -345,7 +345,7 @@ final class ChangesSentences {
         Sentence.of("NO_SUCH if there is no such ear or letter;");
         Check.dueForAll("ear", NO_EARS_OF_TWO, n -> x.second(n, T, 5), Check.NO_SUCH);
         Check.dueForAll("letter", Check.outside(0, 25), n -> x.second(0, n, 5), Check.NO_SUCH);
-        Check.dueForAll("ear without ears", new int[] {0, 1, -1}, n -> new ConsonantIndex().second(n, T, 5), Check.NO_SUCH);
+        Check.dueForAll("ear without ears", new int[] {0, 1, -1}, n -> new Index().second(n, T, 5), Check.NO_SUCH);
         Sentence.of("BAD_VALUE if kind is out of range;");
         Check.dueForAll("kind", Check.outside(0, 9), n -> x.second(0, T, n), Check.BAD_VALUE);
         for (int kind = -9; kind < 0; kind++) {
@@ -366,7 +366,7 @@ final class ChangesSentences {
     private static void habits() {
         Sentence.under("Promise 8: habits");
         Sentence.of("Changes the habits of an ear.");
-        ConsonantIndex x = some();
+        Index x = some();
         x.habits(0, 6);
         Check.due("habits", x.ofEar(0, 0), 6);
         Check.due("habits of the other ear", x.ofEar(1, 0), 1);
@@ -387,7 +387,7 @@ final class ChangesSentences {
         Check.due("habits(1, 2)", x.habits(1, 2), 1);
         Sentence.of("NO_SUCH if there is no such ear;");
         Check.dueForAll("ear", NO_EARS_OF_TWO, n -> x.habits(n, 3), Check.NO_SUCH);
-        Check.dueForAll("ear without ears", new int[] {0, 1, -1}, n -> new ConsonantIndex().habits(n, 3), Check.NO_SUCH);
+        Check.dueForAll("ear without ears", new int[] {0, 1, -1}, n -> new Index().habits(n, 3), Check.NO_SUCH);
         Sentence.of("BAD_VALUE if habits is out of range.");
         Check.dueForAll("habits", Check.outside(0, 7), n -> x.habits(0, n), Check.BAD_VALUE);
         Check.due("habits(0, NONE)", x.habits(0, Check.NONE), Check.BAD_VALUE);
@@ -397,7 +397,7 @@ final class ChangesSentences {
     private static void merge() {
         Sentence.under("Promise 9: merge");
         Sentence.of("Merges a class of an ear into another one.");
-        ConsonantIndex x = some();
+        Index x = some();
         x.merge(0, 3, 2);
         Check.due("letters like t", x.of(0, T, 2), Check.letters("dtcgjkqsxz"));
         Check.due("class of s", x.of(0, S, 0), 3);
@@ -409,13 +409,13 @@ final class ChangesSentences {
         Sentence.isChange(ChangesSentences::some, "merge(0, 3, 2)", y -> y.merge(0, 3, 2), 10);
         Sentence.isChange(ChangesSentences::some, "merge(1, 3, 9)", y -> y.merge(1, 3, 9), 2);
         Sentence.isChange(ChangesSentences::some, "merge(0, 8, 7) without letters", y -> y.merge(0, 8, 7), 0);
-        Supplier<ConsonantIndex> six = () -> {
-            ConsonantIndex y = some();
+        Supplier<Index> six = () -> {
+            Index y = some();
             for (int i = 0; i < 5; i++) y.merge(1, 0, i + 1);
             return y;
         };
         Sentence.isChange(six, "merge(1, 9, 6), the seventh", y -> y.merge(1, 9, 6), 1);
-        ConsonantIndex undone = six.get();
+        Index undone = six.get();
         undone.merge(1, 9, 6);
         undone.undo();
         int[] splits = {5, 4, 3, 2, 1, 5};
@@ -424,7 +424,7 @@ final class ChangesSentences {
         Sentence.of("into: 0 to 9, likewise from");
         for (int into = 0; into <= 9; into++) {
             for (int from = 0; from <= 9; from++) {
-                ConsonantIndex y = new ConsonantIndex();
+                Index y = new Index();
                 y.ear(Check.NONE);
                 y.hear(0, Z, from);
                 int answer = y.merge(0, into, from);
@@ -436,7 +436,7 @@ final class ChangesSentences {
 
     private static void mergeErrors() {
         Sentence.of("Returns how many letters, by their class, are in it then;");
-        ConsonantIndex x = some();
+        Index x = some();
         x.second(0, L, 1);
         Check.due("merge(0, 1, 6)", x.merge(0, 1, 6), 5);
         Check.due("merge(0, 1, 7) without letters", x.merge(0, 1, 7), 5);
@@ -448,7 +448,7 @@ final class ChangesSentences {
         Check.due("merge(0, 2, 3) of all letters", x.merge(0, 2, 3), 26);
         Sentence.of("NO_SUCH if there is no such ear;");
         Check.dueForAll("ear", NO_EARS_OF_TWO, n -> x.merge(n, 1, 2), Check.NO_SUCH);
-        Check.dueForAll("ear without ears", new int[] {0, 1, -1}, n -> new ConsonantIndex().merge(n, 1, 2), Check.NO_SUCH);
+        Check.dueForAll("ear without ears", new int[] {0, 1, -1}, n -> new Index().merge(n, 1, 2), Check.NO_SUCH);
         Sentence.of("BAD_VALUE if into or from is out of range, or both are the same.");
         int before = x.ofEar(0, 1);
         Check.dueForAll("into", Check.outside(0, 9), n -> x.merge(0, n, 2), Check.BAD_VALUE);
@@ -464,7 +464,7 @@ final class ChangesSentences {
     private static void split() {
         Sentence.under("Promise 10: split");
         Sentence.of("Splits: takes the latest merger of an ear back (second classes that were gone stay gone).");
-        ConsonantIndex x = some();
+        Index x = some();
         x.second(0, L, 6);
         x.second(0, R, 4);
         x.merge(0, 1, 2);
@@ -480,7 +480,7 @@ final class ChangesSentences {
         Check.due("class of m of the other ear", x.of(1, M, 0), 4);
         Sentence.of("This is a change.");
         Sentence.isChange(ChangesSentences::some, "split(1)", y -> y.split(1), 5);
-        ConsonantIndex undone = some();
+        Index undone = some();
         undone.split(1);
         undone.undo();
         Check.due("split behind undo() of it", undone.split(1), 5);
@@ -488,14 +488,14 @@ final class ChangesSentences {
         Sentence.of("Returns the class that is split off;");
         Check.due("split(0)", x.split(0), 2);
         for (int from = 0; from <= 9; from++) {
-            ConsonantIndex y = new ConsonantIndex();
+            Index y = new Index();
             y.ear(Check.NONE);
             y.merge(0, (from + 3) % 10, from);
             Check.due("split(0)", y.split(0), from);
         }
         Sentence.of("NO_SUCH if there is no such ear;");
         Check.dueForAll("ear", NO_EARS_OF_TWO, x::split, Check.NO_SUCH);
-        Check.due("split(0) without ears", new ConsonantIndex().split(0), Check.NO_SUCH);
+        Check.due("split(0) without ears", new Index().split(0), Check.NO_SUCH);
         Sentence.of("NOT_POSSIBLE if it remembers no merger.");
         Check.due("split(0)", x.split(0), Check.NOT_POSSIBLE);
         Check.due("split(1)", x.split(1), 5);

@@ -23,7 +23,7 @@ final class ChangesTest {
 
     private static void newObject() {
         Check.part("promise 1, a new object");
-        ConsonantIndex x = new ConsonantIndex();
+        Index x = new Index();
         int[] counts = {0, 0, 4, 24, 0, 0, 0};
         for (int what = 0; what < counts.length; what++) Check.due("count(" + what + ")", x.count(what), counts[what]);
         Check.due("fault()", x.fault(), 0);
@@ -33,7 +33,7 @@ final class ChangesTest {
         Check.due("undo()", x.undo(), Check.NOT_POSSIBLE);
         Check.due("restore(0)", x.restore(0), Check.NOT_POSSIBLE);
         Check.due("restore(1)", x.restore(1), Check.NOT_POSSIBLE);
-        ConsonantIndex other = new ConsonantIndex();
+        Index other = new Index();
         Check.addName(x, "other");
         x.ear(Check.NONE);
         Check.due("count(0) of another object", other.count(0), 0);
@@ -42,7 +42,7 @@ final class ChangesTest {
 
     private static void set() {
         Check.part("promise 2, set");
-        ConsonantIndex x = Check.withNames("tarzan", "bord", "lima");
+        Index x = Check.withNames("tarzan", "bord", "lima");
         x.ear(Check.NONE);
         Check.due("set(LENGTH, 1)", x.set(LENGTH, 1), 4);
         Check.due("count(2)", x.count(2), 1);
@@ -68,7 +68,7 @@ final class ChangesTest {
 
     private static void add() {
         Check.part("promise 3, add");
-        ConsonantIndex x = new ConsonantIndex();
+        Index x = new Index();
         Check.due("add() of a", Check.addName(x, "a"), 0);
         Check.due("the pad is emptied", x.count(4), 0);
         Check.due("add() of z", Check.addName(x, "z"), 1);
@@ -93,7 +93,7 @@ final class ChangesTest {
         Check.refused(x, "add() beyond the most names", x::add, Check.TOO_MANY);
         x.set(NAMES, 5);
         Check.due("add() below the most names", x.add(), 4);
-        ConsonantIndex full = new ConsonantIndex();
+        Index full = new Index();
         for (int i = 0; i < 24; i++) Check.due("add()", Check.addName(full, "n" + (char) ('a' + i)), i);
         Check.due("add() of the 25th", Check.addName(full, "nz"), Check.TOO_MANY);
         Check.due("the pad stays", full.count(4), 2);
@@ -105,7 +105,7 @@ final class ChangesTest {
 
     private static void drop() {
         Check.part("promise 4, drop");
-        ConsonantIndex x = Check.withNames("ada", "ben", "cleo", "dirk");
+        Index x = Check.withNames("ada", "ben", "cleo", "dirk");
         x.ear(Check.NONE);
         for (int name : new int[] {-1, 4, Check.NONE, Integer.MIN_VALUE, Integer.MAX_VALUE}) {
             Check.refused(x, "drop(" + name + ")", () -> x.drop(name), Check.NO_SUCH);
@@ -125,7 +125,7 @@ final class ChangesTest {
 
     private static void ear() {
         Check.part("promise 5, ear");
-        ConsonantIndex x = Check.withNames("shasta");
+        Index x = Check.withNames("shasta");
         for (int as : new int[] {-1, 0, 1, -5, -7, Integer.MIN_VALUE, Integer.MAX_VALUE}) {
             Check.refused(x, "ear(" + as + ")", () -> x.ear(as), Check.NO_SUCH);
         }
@@ -177,7 +177,7 @@ final class ChangesTest {
     }
 
     private static void earWithMergers() {
-        ConsonantIndex x = new ConsonantIndex();
+        Index x = new Index();
         x.ear(Check.NONE);
         x.second(0, Check.letter('a'), 6);
         x.merge(0, 3, 6);
@@ -196,7 +196,7 @@ final class ChangesTest {
 
     private static void hear() {
         Check.part("promise 6, hear");
-        ConsonantIndex x = Check.withNames("tat");
+        Index x = Check.withNames("tat");
         x.ear(Check.NONE);
         Check.due("hear(0, t, 9)", x.hear(0, 19, 9), 3);
         Check.due("hear(0, t, 0)", x.hear(0, 19, 0), 9);
@@ -226,7 +226,7 @@ final class ChangesTest {
 
     private static void second() {
         Check.part("promise 7, second");
-        ConsonantIndex x = Check.withNames("tat");
+        Index x = Check.withNames("tat");
         x.ear(Check.NONE);
         Check.due("second(0, t, 9)", x.second(0, 19, 9), Check.NONE);
         Check.due("second(0, t, 0)", x.second(0, 19, 0), 9);
@@ -252,7 +252,7 @@ final class ChangesTest {
 
     private static void habits() {
         Check.part("promise 8, habits");
-        ConsonantIndex x = Check.withNames("chphshth", "hahbh", "s", "ss", "tas", "asb", "has");
+        Index x = Check.withNames("chphshth", "hahbh", "s", "ss", "tas", "asb", "has");
         x.ear(Check.NONE);
         x.set(LENGTH, 5);
         x.hear(0, Check.letter('h'), 7);
@@ -290,7 +290,7 @@ final class ChangesTest {
     }
 
     /** A letter that is heard by a habit is not open. */
-    private static void habitsAndSeconds(ConsonantIndex x) {
+    private static void habitsAndSeconds(Index x) {
         x.second(0, Check.letter('s'), 8);
         x.second(0, Check.letter('h'), 9);
         Check.due("s", Check.codeOf(x, 0, 2, 1), "code 8");
@@ -310,7 +310,7 @@ final class ChangesTest {
 
     private static void merge() {
         Check.part("promise 9, merge");
-        ConsonantIndex x = Check.withNames("dirk");
+        Index x = Check.withNames("dirk");
         x.ear(Check.NONE);
         Check.due("merge(0, 3, 6)", x.merge(0, 3, 6), 3);
         Check.due("letters of 3", x.of(0, 3, 2), Check.letters("dtr"));
@@ -339,7 +339,7 @@ final class ChangesTest {
 
     private static void mergeOfSeconds() {
         Check.part("promise 9, merge and second classes");
-        ConsonantIndex x = new ConsonantIndex();
+        Index x = new Index();
         x.ear(Check.NONE);
         x.second(0, 0, 5); // a: 0, 5
         x.second(0, 11, 5); // l: 4, 5
@@ -361,7 +361,7 @@ final class ChangesTest {
 
     private static void split() {
         Check.part("promise 10, split");
-        ConsonantIndex x = new ConsonantIndex();
+        Index x = new Index();
         x.ear(Check.NONE);
         x.merge(0, 3, 6);
         x.merge(0, 1, 3);
@@ -387,7 +387,7 @@ final class ChangesTest {
 
     private static void splitOfSeconds() {
         Check.part("promise 10, split and second classes");
-        ConsonantIndex x = new ConsonantIndex();
+        Index x = new Index();
         x.ear(Check.NONE);
         x.merge(0, 3, 6);
         x.second(0, 17, 6); // r: 3, 6
@@ -409,7 +409,7 @@ final class ChangesTest {
         x.second(0, 1, 1);
         Check.due("split(0)", x.split(0), 9);
         Check.due("a second class that is another one now stays", x.of(0, 1, 1), 1);
-        ConsonantIndex y = new ConsonantIndex();
+        Index y = new Index();
         y.ear(Check.NONE);
         Check.refused(y, "split(0) without mergers", () -> y.split(0), Check.NOT_POSSIBLE);
         for (int letter = 0; letter < 26; letter++) y.second(0, letter, 9);
@@ -422,7 +422,7 @@ final class ChangesTest {
 
     private static void mergersForgotten() {
         Check.part("promise 9, mergers forgotten");
-        ConsonantIndex x = new ConsonantIndex();
+        Index x = new Index();
         x.ear(Check.NONE);
         for (int from = 1; from <= 6; from++) x.merge(0, 0, from);
         Check.due("mergers", x.ofEar(0, 1), 6);
@@ -436,7 +436,7 @@ final class ChangesTest {
         Check.due("split(0) of a forgotten one", x.split(0), Check.NOT_POSSIBLE);
         Check.due("its letters stay", x.ofEar(0, 7), Check.letters("aehiouwybfpv"));
         Check.due("those of the others do not", x.of(0, 18, 0), 2);
-        ConsonantIndex y = new ConsonantIndex();
+        Index y = new Index();
         y.ear(Check.NONE);
         y.second(0, 0, 4);
         // The classes of r and l, and the second class of a, go from class to class.

@@ -36,14 +36,14 @@ final class Check {
     }
 
     /** The call answers that error, and nothing is different behind it. */
-    static void refused(ConsonantIndex x, String call, IntSupplier calling, int error) {
+    static void refused(Index x, String call, IntSupplier calling, int error) {
         String before = picture(x);
         due(call, calling.getAsInt(), error);
         due("what there is behind " + call, picture(x), before);
     }
 
     /** The call answers that, and nothing is different behind it. */
-    static void asked(ConsonantIndex x, String call, IntSupplier calling, int want) {
+    static void asked(Index x, String call, IntSupplier calling, int want) {
         refused(x, call, calling, want);
     }
 
@@ -64,31 +64,31 @@ final class Check {
     }
 
     /** Puts a text of any length on the pad, eight characters a call. */
-    static void type(ConsonantIndex x, String text) {
+    static void type(Index x, String text) {
         for (int i = 0; i < text.length(); i += 8) {
             x.put(characters(text.substring(i, Math.min(text.length(), i + 8))));
         }
     }
 
-    static int addName(ConsonantIndex x, String name) {
+    static int addName(Index x, String name) {
         x.wipe();
         type(x, name);
         return x.add();
     }
 
-    static int find(ConsonantIndex x, String text, int ear, int rank, int what) {
+    static int find(Index x, String text, int ear, int rank, int what) {
         x.wipe();
         type(x, text);
         return x.find(ear, rank, what);
     }
 
-    static ConsonantIndex withNames(String... names) {
-        ConsonantIndex x = new ConsonantIndex();
+    static Index withNames(String... names) {
+        Index x = new Index();
         for (String name : names) addName(x, name);
         return x;
     }
 
-    static String nameAt(ConsonantIndex x, int name) {
+    static String nameAt(Index x, int name) {
         StringBuilder text = new StringBuilder();
         for (int place = 1; place <= 10 && x.name(name, place) >= 0; place++) {
             text.append((char) ('a' + x.name(name, place)));
@@ -96,7 +96,7 @@ final class Check {
         return text.toString();
     }
 
-    static String codeOf(ConsonantIndex x, int ear, int name, int which) {
+    static String codeOf(Index x, int ear, int name, int which) {
         int size = x.code(ear, name, which, 5);
         if (size < 0) return "error " + size;
         StringBuilder text = new StringBuilder("code");
@@ -105,7 +105,7 @@ final class Check {
     }
 
     /** All codes of a name, as "3 5, 3 8 5"; a code without numbers as "-". */
-    static String codes(ConsonantIndex x, int ear, int name) {
+    static String codes(Index x, int ear, int name) {
         StringBuilder text = new StringBuilder();
         for (int which = 0; which < 9 && x.code(ear, name, which, 5) >= 0; which++) {
             if (which > 0) text.append(", ");
@@ -117,14 +117,14 @@ final class Check {
 
     /** The codes of a name by an ear that is as ears are at first, but for what the call changes. */
     static String codes(String name, Sentence.Call change) {
-        ConsonantIndex x = withNames(name);
+        Index x = withNames(name);
         x.ear(NONE);
         change.on(x);
         return codes(x, 0, 0);
     }
 
     /** The names of all drawers of an ear, as "0 2, 1". */
-    static String drawers(ConsonantIndex x, int ear, int order) {
+    static String drawers(Index x, int ear, int order) {
         StringBuilder text = new StringBuilder();
         for (int drawer = 0; drawer < 99 && x.drawer(ear, drawer, order) >= 0; drawer++) {
             if (drawer > 0) text.append(", ");
@@ -160,9 +160,12 @@ final class Check {
     }
 
     /** All that can be asked without a change, as a text: two pictures are the same if nothing is different. */
-    static String picture(ConsonantIndex x) {
-        StringBuilder text = new StringBuilder(pictureWithoutPad(x));
-        text.append(" pad ").append(x.count(4)).append(' ').append(x.fault());
+    static String picture(Index x) {
+        return pictureWithoutPad(x) + x.looking(() -> pictureOfPad(x));
+    }
+
+    private static String pictureOfPad(Index x) {
+        StringBuilder text = new StringBuilder(" pad ").append(x.count(4)).append(' ').append(x.fault());
         text.append(" changes ").append(x.count(5));
         for (int ear = 0; ear < x.count(1); ear++) {
             for (int rank = 0; rank <= x.count(0); rank++) {
@@ -173,7 +176,11 @@ final class Check {
     }
 
     /** The same without the pad and the history. */
-    static String pictureWithoutPad(ConsonantIndex x) {
+    static String pictureWithoutPad(Index x) {
+        return x.looking(() -> pictureOfRest(x));
+    }
+
+    private static String pictureOfRest(Index x) {
         StringBuilder text = new StringBuilder("counts");
         for (int what = 0; what < 7; what++) {
             if (what != 4 && what != 5) text.append(' ').append(x.count(what));
@@ -187,7 +194,7 @@ final class Check {
         return text.append(" deafest ").append(x.deafest()).toString();
     }
 
-    private static void pictureOfEar(ConsonantIndex x, int ear, int names, StringBuilder text) {
+    private static void pictureOfEar(Index x, int ear, int names, StringBuilder text) {
         text.append("\n  ear");
         for (int letter = 0; letter < 26; letter++) {
             text.append(' ').append(x.of(ear, letter, 0)).append(',').append(x.of(ear, letter, 1));

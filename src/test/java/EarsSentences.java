@@ -35,13 +35,13 @@ final class EarsSentences {
         splittingEachLetter();
     }
 
-    private static ConsonantIndex withEar(String... names) {
-        ConsonantIndex x = Check.withNames(names);
+    private static Index withEar(String... names) {
+        Index x = Check.withNames(names);
         x.ear(Check.NONE);
         return x;
     }
 
-    private static void codesDue(ConsonantIndex x, int name, String want) {
+    private static void codesDue(Index x, int name, String want) {
         Check.due("codes of " + Check.nameAt(x, name), Check.codes(x, 0, name), want);
     }
 
@@ -51,7 +51,7 @@ final class EarsSentences {
 
     private static void numbersOfEars() {
         Sentence.of("There are up to 4 ears, numbered in the order in which they came.");
-        ConsonantIndex x = new ConsonantIndex();
+        Index x = new Index();
         for (int ear = 0; ear < 4; ear++) {
             Check.due("ofEar(" + ear + ", 0)", x.ofEar(ear, 0), Check.NO_SUCH);
             Check.due("ear(NONE)", x.ear(Check.NONE), ear);
@@ -66,7 +66,7 @@ final class EarsSentences {
 
     private static void classes() {
         Sentence.of("For each letter an ear has a class, 0 to 9 (0: it is silent), and perhaps a second class, 0 to 9.");
-        ConsonantIndex x = withEar("t");
+        Index x = withEar("t");
         for (int kind = 0; kind <= 9; kind++) {
             x.hear(0, T, kind);
             Check.due("class", x.of(0, T, 0), kind);
@@ -83,7 +83,7 @@ final class EarsSentences {
         Check.due("second class -1", x.second(0, T, -1), Check.BAD_VALUE);
         Check.due("second class 10", x.second(0, T, 10), Check.BAD_VALUE);
         for (int letter = 0; letter < 26; letter++) {
-            ConsonantIndex y = withEar("t");
+            Index y = withEar("t");
             y.hear(0, letter, 9);
             y.second(0, letter, 8);
             for (int other = 0; other < 26; other++) {
@@ -96,7 +96,7 @@ final class EarsSentences {
     private static void atFirst() {
         Sentence.of("At first: 0 for a, e, h, i, o, u, w, y; 1 for b, f, p, v; 2 for c, g, j, k, q, s, x, z; 3 for d, t; "
             + "4 for l; 5 for m, n; 6 for r; and no second ones.");
-        ConsonantIndex x = new ConsonantIndex();
+        Index x = new Index();
         for (int ear = 0; ear < 4; ear++) {
             x.ear(Check.NONE);
             for (int kind = 0; kind < FIRST_CLASSES.length; kind++) {
@@ -112,7 +112,7 @@ final class EarsSentences {
 
     private static void secondsUnlikeClasses() {
         Sentence.of("A second class is never the same as the class: where it would be, it is gone.");
-        ConsonantIndex x = withEar("t");
+        Index x = withEar("t");
         x.second(0, T, 8);
         Check.due("second(0, t, 3)", x.second(0, T, 3), Check.NOT_POSSIBLE);
         Check.due("it stays", x.of(0, T, 1), 8);
@@ -136,7 +136,7 @@ final class EarsSentences {
         x.split(0);
         Check.due("the class is split off", x.of(0, T, 0), 7);
         Check.due("gone by a split of the class", x.of(0, T, 1), Check.NONE);
-        ConsonantIndex y = withEar("t");
+        Index y = withEar("t");
         y.second(0, T, 7);
         y.merge(0, 8, 7);
         y.hear(0, T, 7);
@@ -149,7 +149,7 @@ final class EarsSentences {
 
     private static void habitsAsSet() {
         Sentence.of("An ear can have habits (none at first), as a set:");
-        ConsonantIndex x = withEar("shahs");
+        Index x = withEar("shahs");
         x.hear(0, H, 7);
         Check.due("at first", x.ofEar(0, 0), 0);
         String[] codes = {"2 7 7 2", "2 7 2", "2 7 7", "2 7", "28 7 7 2", "28 7 2", "28 7 7", "28 7"};
@@ -245,7 +245,7 @@ final class EarsSentences {
             codesDue("a", "-", x -> x.set(LENGTH, most));
         }
         codesDue("abacadalam", "1 2 3 4 5", x -> x.set(LENGTH, 5));
-        ConsonantIndex x = withEar("bcdlmr");
+        Index x = withEar("bcdlmr");
         x.set(LENGTH, 5);
         codesDue(x, 0, "1 2 3 4 5");
         x.set(LENGTH, 2);
@@ -342,14 +342,14 @@ final class EarsSentences {
     private static void waysByNumber() {
         Sentence.of("the way k, 0 to 3, takes the second class of the first open letter if k is odd, and that of the second "
             + "open letter if k is 2 or 3.");
-        ConsonantIndex x = withEar("tl");
+        Index x = withEar("tl");
         x.second(0, T, 8);
         x.second(0, L, 9);
         String[] ways = {"code 3 4", "code 8 4", "code 3 9", "code 8 9"};
         for (int way = 0; way < 4; way++) Check.due("way " + way, Check.codeOf(x, 0, 0, way), ways[way]);
         Check.due("way 4", x.code(0, 0, 4, 5), Check.NO_SUCH);
         Check.due("way -1", x.code(0, 0, -1, 5), Check.NO_SUCH);
-        ConsonantIndex one = withEar("atl");
+        Index one = withEar("atl");
         one.second(0, L, 9);
         codesDue(one, 0, "3 4, 3 9");
     }
@@ -366,7 +366,7 @@ final class EarsSentences {
         // The way 1 tells nothing new, but the way 2 does.
         codesDue("bfl", "1 4, 1 9", x -> x.second(0, F, 0) + x.second(0, L, 9));
         codesDue("ba", "1, -", x -> x.second(0, B, 0));
-        ConsonantIndex x = withEar("tl");
+        Index x = withEar("tl");
         x.set(LENGTH, 1);
         x.second(0, T, 8);
         x.second(0, L, 9);
@@ -379,7 +379,7 @@ final class EarsSentences {
 
     private static void drawers() {
         Sentence.of("A drawer of an ear has all names that have its code among their codes.");
-        ConsonantIndex x = withEar("cam", "lam", "tam", "cal", "ctm");
+        Index x = withEar("cam", "lam", "tam", "cal", "ctm");
         Check.due("drawers", Check.drawers(x, 0, 0), "0, 1, 2, 3, 4");
         x.second(0, C, 3);
         // 2 5, 3 5; 4 5; 3 5; 2 4, 3 4; 2 3 5, 3 5
@@ -391,16 +391,16 @@ final class EarsSentences {
         Check.due("drawers of another ear", Check.drawers(x, 1, 0), "0, 1, 2, 3, 4");
         x.set(LENGTH, 1);
         Check.due("drawers of short codes", Check.drawers(x, 0, 0), "0 2 3 4, 0 2 3 4, 1");
-        ConsonantIndex none = withEar();
+        Index none = withEar();
         Check.due("drawers without names", Check.drawers(none, 0, 0), "");
-        ConsonantIndex silent = withEar("a", "e", "b", "hey");
+        Index silent = withEar("a", "e", "b", "hey");
         Check.due("the drawer of the code without numbers", Check.drawers(silent, 0, 0), "0 1 3, 2");
     }
 
     private static void orderOfDrawers() {
         Sentence.of("Drawers are in the order in which their codes come first when the codes of all names, by numbers, are "
             + "gone through.");
-        ConsonantIndex x = withEar("ra", "ta", "ba", "raa", "la");
+        Index x = withEar("ra", "ta", "ba", "raa", "la");
         Check.due("drawers", Check.drawers(x, 0, 0), "0 3, 1, 2, 4");
         x.second(0, R, 1);
         // 6, 1; 3; 1; 6, 1; 4
@@ -416,7 +416,7 @@ final class EarsSentences {
         Check.due("drawers", Check.drawers(x, 0, 0), "0, 1 2, 2, 3");
         Check.addName(x, "ra");
         Check.due("drawers", Check.drawers(x, 0, 0), "0, 1 2 4, 2 4, 3");
-        ConsonantIndex ways = withEar("tl");
+        Index ways = withEar("tl");
         ways.second(0, T, 8);
         ways.second(0, L, 9);
         for (int way = 0; way < 4; way++) Check.due("drawer of way " + way, ways.code(0, 0, way, 6), way);
@@ -424,7 +424,7 @@ final class EarsSentences {
 
     private static void alike() {
         Sentence.of("An ear hears two names alike if they have a code in common.");
-        ConsonantIndex x = withEar("ca", "ga", "ta", "sa", "a", "hey");
+        Index x = withEar("ca", "ga", "ta", "sa", "a", "hey");
         x.second(0, C, 3);
         x.hear(0, G, 8);
         x.second(0, G, 3);
@@ -436,7 +436,7 @@ final class EarsSentences {
             Check.due("names like " + one, Check.numbers(set), alike[one]);
         }
         Check.due("pairs", x.ofEar(0, 5), 5);
-        ConsonantIndex two = withEar("tl", "lt");
+        Index two = withEar("tl", "lt");
         two.second(0, T, 4);
         two.second(0, L, 3);
         // 3 4, 4, 3, 4 3; 4 3, 3, 4, 3 4: four codes in common are one pair
@@ -444,7 +444,7 @@ final class EarsSentences {
         Check.due("alike(0, 0, 1)", two.alike(0, 0, 1), 1);
     }
 
-    private static void heardDue(ConsonantIndex x, int letter, int kind, int second) {
+    private static void heardDue(Index x, int letter, int kind, int second) {
         String sign = "" + (char) ('a' + letter);
         Check.due("class of " + sign, x.of(0, letter, 0), kind);
         Check.due("second class of " + sign, x.of(0, letter, 1), second);
@@ -452,7 +452,7 @@ final class EarsSentences {
 
     private static void merging() {
         Sentence.of("To merge a class b into a class a: all letters with the class b get the class a (second classes too).");
-        ConsonantIndex x = withEar("trl");
+        Index x = withEar("trl");
         x.second(0, B, 6);
         x.second(0, S, 3);
         x.second(0, M, 8);
@@ -492,7 +492,7 @@ final class EarsSentences {
     private static void sixMergers() {
         Sentence.of("The ear remembers its mergers, up to 6; when one more comes, the oldest one is forgotten.");
         for (int many = 0; many <= 9; many++) {
-            ConsonantIndex x = withEar();
+            Index x = withEar();
             x.second(0, B, 4);
             for (int i = 0; i < many; i++) {
                 x.merge(0, classBehind(i + 1), classBehind(i));
@@ -509,7 +509,7 @@ final class EarsSentences {
             Check.due("split of one more than " + remembered, x.split(0), Check.NOT_POSSIBLE);
         }
         sixMergersOfOtherLetters();
-        ConsonantIndex two = withEar();
+        Index two = withEar();
         two.ear(Check.NONE);
         for (int i = 0; i < 7; i++) two.merge(0, i + 1, i);
         two.merge(1, 1, 2);
@@ -521,7 +521,7 @@ final class EarsSentences {
 
     /** Each merger has letters, and second classes, of its own: those of the two oldest ones stay where they came. */
     private static void sixMergersOfOtherLetters() {
-        ConsonantIndex x = withEar();
+        Index x = withEar();
         for (int letter = 0; letter < 26; letter++) x.hear(0, letter, 0);
         for (int i = 0; i < 8; i++) {
             x.hear(0, i, 1 + i);
@@ -541,7 +541,7 @@ final class EarsSentences {
     private static void splitting() {
         Sentence.of("To split is to take the latest merger back: letters whose class (second class) became a by it, and is a "
             + "now, get b again (a second class that is gone by it did not become a).");
-        ConsonantIndex x = withEar();
+        Index x = withEar();
         x.merge(0, 1, 2);
         x.merge(0, 3, 6);
         x.hear(0, D, 6);
@@ -558,7 +558,7 @@ final class EarsSentences {
         heardDue(x, S, 2, Check.NONE);
         heardDue(x, F, 1, Check.NONE);
         // The latest one is taken back first: what two mergers moved comes back step by step.
-        ConsonantIndex y = withEar();
+        Index y = withEar();
         y.merge(0, 3, 6);
         y.merge(0, 1, 3);
         heardDue(y, R, 1, Check.NONE);
@@ -570,7 +570,7 @@ final class EarsSentences {
         heardDue(y, R, 6, Check.NONE);
         heardDue(y, T, 3, Check.NONE);
         // A letter that is of the class now, though it was not in between.
-        ConsonantIndex z = withEar();
+        Index z = withEar();
         z.merge(0, 3, 6);
         z.hear(0, R, 9);
         z.hear(0, R, 3);
@@ -582,7 +582,7 @@ final class EarsSentences {
     private static void splittingEachLetter() {
         for (int alone = 0; alone < 26; alone++) {
             for (int many = 0; many < 2; many++) {
-                ConsonantIndex x = withEar();
+                Index x = withEar();
                 for (int letter = 0; letter < 26; letter++) {
                     x.hear(0, letter, letter == alone ^ many == 1 ? 8 : 9);
                 }
@@ -605,7 +605,7 @@ final class EarsSentences {
     }
 
     private static void splittingSeconds() {
-        ConsonantIndex x = withEar();
+        Index x = withEar();
         x.second(0, B, 6);
         x.second(0, C, 3);
         x.second(0, F, 6);
@@ -627,7 +627,7 @@ final class EarsSentences {
         heardDue(x, T, 3, Check.NONE);
         heardDue(x, R, 6, Check.NONE);
         // Second classes that were gone by the merger did not become the class, even if they are it now.
-        ConsonantIndex y = withEar();
+        Index y = withEar();
         y.second(0, L, 5);
         y.second(0, M, 4);
         y.merge(0, 4, 5);

@@ -18,6 +18,7 @@ final class GridTest {
     private static final int[] PLACES = {LEAST, -6, -1, 0, 1, 2, 9, 10, 11, 12, MOST};
     private static final int[] DRAWERS = {LEAST, -6, -1, 0, 1, 2, 3, 4, 40, 95, 96, MOST};
     private static final int[] RANKS = {LEAST, -6, -1, 0, 1, 2, 5, 23, 24, MOST};
+    private static final int QUESTIONS_PER_LOOK = 100;
     private static final Object[][] CHANGES = {
         {"set", SLOTS, SETTINGS}, {"add"}, {"drop", SOME_NAMES}, {"ear", EARS}, {"hear", EARS, LETTERS, KINDS},
         {"second", EARS, LETTERS, KINDS}, {"habits", EARS, SMALL}, {"merge", EARS, KINDS, KINDS}, {"split", EARS},
@@ -31,27 +32,34 @@ final class GridTest {
     };
 
     private static final class Pair {
-        final ConsonantIndex x = new ConsonantIndex();
+        final Index x = new Index();
         final Model model = new Model();
 
-        int on(String name, Object... arguments) throws ReflectiveOperationException {
+        int on(String name, Object... arguments) {
             int got = ModelTest.answer(x, name, arguments);
             Check.due(name + Arrays.toString(arguments), got, ModelTest.answer(model, name, arguments));
             return got;
         }
 
-        void name(String name) throws ReflectiveOperationException {
+        void name(String name) {
             on("wipe");
             type(name);
             on("add");
         }
 
-        void type(String text) throws ReflectiveOperationException {
+        void type(String text) {
             for (char sign : text.toCharArray()) on("put", (long) sign);
         }
 
         /** All that is held, but for the slots and the history. */
-        void look() throws ReflectiveOperationException {
+        void look() {
+            x.looking(() -> {
+                lookAtEach();
+                return null;
+            });
+        }
+
+        private void lookAtEach() {
             for (int what = 0; what < 7; what++) on("count", what);
             on("fault");
             for (int name = 0; name < x.count(0); name++) {
@@ -66,7 +74,7 @@ final class GridTest {
         }
 
         /** The slots, the history and the mergers, too; nothing of them is left then. */
-        void lookAtAll() throws ReflectiveOperationException {
+        void lookAtAll() {
             look();
             while (on("undo") >= 0) look();
             for (int slot = 0; slot < 2; slot++) {
@@ -81,14 +89,10 @@ final class GridTest {
 
     private GridTest() { }
 
-    static void run() throws ReflectiveOperationException {
+    static void run() {
         for (int state = 0; state < 5; state++) {
             Check.part("grid of questions, state " + state);
-            Pair asked = made(state);
-            for (Object[] call : QUESTIONS) {
-                for (Object[] arguments : grid(call)) asked.on((String) call[0], arguments);
-            }
-            asked.lookAtAll();
+            for (Object[] call : QUESTIONS) asked(call, state);
             Check.part("grid of changes, state " + state);
             Pair refused = made(state);
             for (Object[] call : CHANGES) {
@@ -98,8 +102,20 @@ final class GridTest {
         }
     }
 
+    /** All questions of that name, with looks in between, since an object answers no more than some hundred of them. */
+    private static void asked(Object[] call, int state) {
+        Pair pair = made(state);
+        int many = 0;
+        for (Object[] arguments : grid(call)) {
+            pair.on((String) call[0], arguments);
+            many++;
+            if (many % QUESTIONS_PER_LOOK == 0) pair.look();
+        }
+        pair.lookAtAll();
+    }
+
     /** The pair for the next call: the same one if this call was refused, else one that is made anew. */
-    private static Pair changed(Pair pair, int state, String name, Object[] arguments) throws ReflectiveOperationException {
+    private static Pair changed(Pair pair, int state, String name, Object[] arguments) {
         int answer = pair.on(name, arguments);
         if (answer < 0 && answer != Check.NONE) return pair;
         pair.look();
@@ -109,7 +125,7 @@ final class GridTest {
     }
 
     /** 0 nothing, 1 an ear, 2 some of all, 3 a full index with a known name on the pad, 4 the same with a fault. */
-    private static Pair made(int state) throws ReflectiveOperationException {
+    private static Pair made(int state) {
         Pair pair = new Pair();
         if (state == 0) return pair;
         pair.on("ear", -6);

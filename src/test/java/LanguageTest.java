@@ -14,16 +14,6 @@ import java.util.regex.Pattern;
 
 /** The face as the document tells it, and those rules of ../shared/LANGUAGE.md that can be seen from outside. */
 final class LanguageTest {
-    private static final String[] FACE = {
-        "int add()", "int alike(int,int,int)", "int bestMerger(int,int)", "int code(int,int,int,int)", "int count(int)",
-        "int deafest()", "int distance(int,int)", "int drawer(int,int,int)", "int drop(int)", "int ear(int)",
-        "int fault()", "int find(int,int,int)", "int habits(int,int)", "int hear(int,int,int)",
-        "int ifMerged(int,int,int,int)", "int merge(int,int,int)", "int name(int,int)", "int of(int,int,int)",
-        "int ofEar(int,int)", "int put(long)", "int quarrel(int,int)", "int restore(int)", "int save(int)",
-        "int second(int,int,int)", "int set(int,int)", "int split(int)", "int undo()", "int wipe()"
-    };
-    private static final String CONSTANTS =
-        "[BAD_TEXT=-3, BAD_VALUE=-2, LENGTH=0, NAMES=1, NONE=-6, NOT_POSSIBLE=-5, NO_SUCH=-1, TOO_MANY=-4]";
     private static final String[] FORBIDDEN = {
         "throw", "throws", "try", "catch", "finally", "synchronized", "assert", "import", "package", "Object", "Integer\\.valueOf",
         "->", "::", "\\w+Exact", "equals", "hashCode", "toString", "public class", "protected", "System\\.(?!arraycopy)"
@@ -31,39 +21,74 @@ final class LanguageTest {
 
     private LanguageTest() { }
 
-    static void run(Path source) throws IOException, IllegalAccessException {
-        face();
-        constants();
+    static void run(Path source, Path document) throws IOException, IllegalAccessException {
+        List<String> face = faceOf(Files.readString(document));
+        faceInSource(face, Files.readString(source));
+        methods(face);
+        constants(face);
         privateMembers();
         words(source);
     }
 
-    private static void face() {
+    /** The lines of the document's face, without the words that all of them have. */
+    private static List<String> faceOf(String document) {
         Check.part("the public face");
+        Matcher block = Pattern.compile("(?s)## The public face\\s+```java\n(.*?)```").matcher(document);
+        Check.due("the document tells the face", block.find() ? 1 : 0, 1);
+        List<String> lines = new ArrayList<>();
+        for (String line : block.group(1).split("\n")) {
+            if (line.endsWith(";")) lines.add(line.trim());
+        }
+        Check.due("lines of the face", lines.size(), 2 + 1 + 28);
+        return lines;
+    }
+
+    /** Each line stands in the source as the document has it, with the same names of parameters. */
+    private static void faceInSource(List<String> face, String source) {
+        Check.due("the class", source.contains("\npublic final class ConsonantIndex {\n") ? 1 : 0, 1);
+        for (String line : face) {
+            String due = line.contains("(") ? line.replace(";", " {") : line;
+            Check.due("lines \"" + due + "\"", source.split(Pattern.quote("\n    " + due + "\n"), -1).length - 1, 1);
+        }
+        Check.due("lines that are public", source.split("\n *public ", -1).length - 1, face.size() + 1);
+    }
+
+    private static void methods(List<String> face) {
+        TreeSet<String> due = new TreeSet<>();
+        for (String line : face) {
+            Matcher method = Pattern.compile("public (int \\w+)\\((.*)\\);").matcher(line);
+            if (method.matches()) due.add(method.group(1) + "(" + method.group(2).replaceAll(" \\w+(, )?", ",") + ")");
+        }
         TreeSet<String> methods = new TreeSet<>();
         for (Method method : ConsonantIndex.class.getDeclaredMethods()) {
             if (Modifier.isPrivate(method.getModifiers()) || method.isSynthetic()) continue;
-            String types = String.join(",", Arrays.stream(method.getParameterTypes()).map(Class::getName).toList());
+            StringBuilder types = new StringBuilder();
+            for (Class<?> type : method.getParameterTypes()) types.append(type.getName()).append(',');
             methods.add(method.getReturnType() + " " + method.getName() + "(" + types + ")");
             Check.due(method.getName() + " is public and nothing else", method.getModifiers(), Modifier.PUBLIC);
         }
-        Check.due("methods", methods.toString(), new TreeSet<>(Arrays.asList(FACE)).toString());
+        Check.due("methods", methods.toString(), due.toString());
         Constructor<?>[] constructors = ConsonantIndex.class.getDeclaredConstructors();
         Check.due("constructors", constructors.length, 1);
         Check.due("its parameters", constructors[0].getParameterCount(), 0);
+        Check.due("its modifiers", constructors[0].getModifiers(), Modifier.PUBLIC);
         Check.due("modifiers of the class", ConsonantIndex.class.getModifiers(), Modifier.PUBLIC | Modifier.FINAL);
     }
 
-    private static void constants() throws IllegalAccessException {
-        Check.part("the constants");
+    private static void constants(List<String> face) throws IllegalAccessException {
+        TreeSet<String> due = new TreeSet<>();
+        for (String line : face) {
+            Matcher constant = Pattern.compile("(\\w+) = (-?\\d+)").matcher(line);
+            while (constant.find()) due.add(constant.group(1) + "=" + constant.group(2));
+        }
         TreeSet<String> constants = new TreeSet<>();
         for (Field field : ConsonantIndex.class.getDeclaredFields()) {
             if (Modifier.isPrivate(field.getModifiers()) || field.isSynthetic()) continue;
-            int due = Modifier.PUBLIC | Modifier.STATIC | Modifier.FINAL;
-            Check.due("modifiers of " + field.getName(), field.getModifiers(), due);
+            int modifiers = Modifier.PUBLIC | Modifier.STATIC | Modifier.FINAL;
+            Check.due("modifiers of " + field.getName(), field.getModifiers(), modifiers);
             constants.add(field.getName() + "=" + field.getInt(null));
         }
-        Check.due("constants", constants.toString(), CONSTANTS);
+        Check.due("constants", constants.toString(), due.toString());
     }
 
     private static void privateMembers() {

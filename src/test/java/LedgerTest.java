@@ -8,13 +8,16 @@ import java.util.regex.Matcher;
 import java.util.regex.Pattern;
 
 /**
- * Holds the words that the sentence tests quote against the document: each quotation stands in it, and from the terms to
- * the last promise nothing is left that no test quotes.
+ * Holds the words that the sentence tests quote against the document: each quotation stands in it, and from its first
+ * line to the last promise nothing is left that no test quotes, but for the face, which LanguageTest holds against the
+ * class.
  */
 final class LedgerTest {
     /** What stands between the promises and promises nothing itself. */
     private static final String[] NO_SENTENCES = {"CONVENTIONS\\.", "(?m)^Codes, drawers$", "(?m)^Ahead of the calls .*$"};
-    private static final List<String> TERMS = List.of("Terms", "Settings", "Names", "Ears", "Mergers", "Texts");
+    private static final List<String> TERMS = List.of("What it is", "Terms", "Settings", "Names", "Ears", "Mergers", "Texts");
+    /** What the last one says is free, or promised to nobody. */
+    private static final List<String> WITHOUT_SENTENCES = List.of("The public face", "Not promised");
 
     private LedgerTest() { }
 
@@ -36,7 +39,7 @@ final class LedgerTest {
         Matcher matcher = Pattern.compile("(?m)^##+ (.*)\\n([^#]*)").matcher(document);
         while (matcher.find()) {
             String heading = matcher.group(1).trim();
-            if (heading.startsWith("Promise ") || TERMS.contains(heading)) sections.put(heading, plain(matcher.group(2)));
+            if (!WITHOUT_SENTENCES.contains(heading)) sections.put(heading, plain(matcher.group(2)));
         }
         return sections;
     }

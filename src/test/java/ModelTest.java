@@ -1,10 +1,9 @@
-import java.lang.reflect.Method;
+import java.util.Arrays;
 import java.util.Random;
 
 /** Long runs of calls, held against the model: each run has the seed of its number, so it is the same every time. */
 final class ModelTest {
     private static final int RUNS = 400;
-    private static final int CALLS = 512;
     private static final int[] FAR = {
         Integer.MIN_VALUE, Integer.MAX_VALUE, -1, -2, -3, -4, -5, -6, -7, 10, 11, 12, 24, 25, 26, 32, 64, 1 << 20
     };
@@ -18,43 +17,46 @@ final class ModelTest {
         {"restore", 2, 1}
     };
 
-    private ModelTest() { }
+    private final int run;
+    private final Random random;
+    private final ConsonantIndex x = new ConsonantIndex();
+    private final Model model = new Model();
+    private int calls = 0;
+    private boolean wrong = false;
 
-    static void run() throws ReflectiveOperationException {
-        Check.part("runs against the model");
-        for (int run = 0; run < RUNS; run++) oneRun(run);
+    private ModelTest(int run) {
+        this.run = run;
+        random = new Random(run);
     }
 
-    private static void oneRun(int run) throws ReflectiveOperationException {
-        Random random = new Random(run);
-        ConsonantIndex x = new ConsonantIndex();
-        Model model = new Model();
+    static void run() {
+        Check.part("runs against the model");
+        for (int run = 0; run < RUNS; run++) new ModelTest(run).go();
+    }
+
+    private void go() {
         // Some runs are to come to full indexes, others to live with many dropped and undone changes.
         boolean growing = run % 3 == 0;
         String letters = run % 2 == 0 ? "abcdefghijklmnopqrstuvwxyz" : "aschtpbr";
-        if (run % 4 != 3) {
-            x.ear(-6);
-            model.ear(-6);
-        }
-        StringBuilder told = new StringBuilder();
-        for (int call = 0; call < CALLS; call++) {
+        if (run % 4 != 3) both("ear", Check.NONE);
+        while (calls < Index.CALLS_AT_MOST && !wrong) {
             Object[] what = pick(random);
             String name = (String) what[0];
             if (growing && (name.equals("drop") || name.equals("undo") || name.equals("restore"))) continue;
             if (growing && name.equals("set") && random.nextInt(4) != 0) continue;
-            if (name.equals("add") && random.nextInt(3) != 0) typeName(x, model, random, letters);
-            Object[] arguments = name.equals("put") ? new Object[] {text(random, letters)} : arguments(what, random, x);
-            int got = answer(x, name, arguments);
-            int due = answer(model, name, arguments);
-            if (got == due) {
-                Check.passed++;
-                continue;
-            }
-            told.append("run ").append(run).append(", call ").append(call).append(": ").append(name);
-            told.append(java.util.Arrays.toString(arguments));
-            Check.due(told.toString(), got, due);
-            return;
+            if (name.equals("add") && random.nextInt(3) != 0) typeName(letters);
+            both(name, name.equals("put") ? new Object[] {text(random, letters)} : arguments(what));
         }
+    }
+
+    /** One call of both; none is made behind the last one for which the document promises an answer. */
+    private void both(String name, Object... arguments) {
+        if (calls == Index.CALLS_AT_MOST || wrong) return;
+        calls++;
+        int got = answer(x, name, arguments);
+        int due = answer(model, name, arguments);
+        wrong = got != due;
+        Check.due("run " + run + ", call " + calls + ": " + name + Arrays.toString(arguments), got, due);
     }
 
     private static Object[] pick(Random random) {
@@ -68,13 +70,13 @@ final class ModelTest {
         return CALLS_OF[0];
     }
 
-    private static Object[] arguments(Object[] what, Random random, ConsonantIndex x) {
+    private Object[] arguments(Object[] what) {
         Object[] arguments = new Object[what.length - 2];
         for (int i = 0; i < arguments.length; i++) {
             int most = (Integer) what[i + 2];
             // Ears and names are mostly ones that there are.
-            if (most == 3 && i == 0) most = Math.max(0, x.count(1) - 1);
-            if (most == 23) most = Math.max(0, x.count(0) - 1);
+            if (most == 3 && i == 0) most = Math.max(0, model.count(1) - 1);
+            if (most == 23) most = Math.max(0, model.count(0) - 1);
             int value = random.nextInt(most + 1);
             if (random.nextInt(30) == 0) value = FAR[random.nextInt(FAR.length)];
             if (random.nextInt(30) == 0) value = most + 1;
@@ -85,15 +87,12 @@ final class ModelTest {
         return arguments;
     }
 
-    private static void typeName(ConsonantIndex x, Model model, Random random, String letters) {
+    private void typeName(String letters) {
         int size = 1 + random.nextInt(random.nextBoolean() ? 10 : 4);
-        x.wipe();
-        model.wipe();
+        both("wipe");
         while (size > 0) {
             int part = Math.min(8, size);
-            long characters = signs(random, letters, part);
-            x.put(characters);
-            model.put(characters);
+            both("put", signs(random, letters, part));
             size -= part;
         }
     }
@@ -111,10 +110,13 @@ final class ModelTest {
         return characters;
     }
 
-    static int answer(Object index, String name, Object[] arguments) throws ReflectiveOperationException {
+    static int answer(Object index, String name, Object... arguments) {
         Class<?>[] types = new Class<?>[arguments.length];
         for (int i = 0; i < types.length; i++) types[i] = arguments[i] instanceof Long ? long.class : int.class;
-        Method method = index.getClass().getMethod(name, types);
-        return (Integer) method.invoke(index, arguments);
+        try {
+            return (Integer) index.getClass().getMethod(name, types).invoke(index, arguments);
+        } catch (ReflectiveOperationException failure) {
+            throw new IllegalStateException(name + Arrays.toString(arguments), failure);
+        }
     }
 }

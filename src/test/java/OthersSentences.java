@@ -27,14 +27,14 @@ final class OthersSentences {
         restoreErrors();
     }
 
-    private static ConsonantIndex withEar(String... names) {
-        ConsonantIndex x = Check.withNames(names);
+    private static Index withEar(String... names) {
+        Index x = Check.withNames(names);
         x.ear(Check.NONE);
         return x;
     }
 
-    private static ConsonantIndex withTwoEars(String... names) {
-        ConsonantIndex x = withEar(names);
+    private static Index withTwoEars(String... names) {
+        Index x = withEar(names);
         x.ear(Check.NONE);
         return x;
     }
@@ -42,10 +42,10 @@ final class OthersSentences {
     private static void ifMerged() {
         Sentence.under("Promise 20: ifMerged");
         Sentence.of("Tells what merging a class of an ear into another one would bring.");
-        Supplier<ConsonantIndex> made = () -> withTwoEars("ra", "ta", "la", "ma", "ram");
+        Supplier<Index> made = () -> withTwoEars("ra", "ta", "la", "ma", "ram");
         Sentence.changesNothing(made, "ifMerged(0, 3, 6, 0)", y -> y.ifMerged(0, 3, 6, 0), 4);
         Sentence.changesNothing(made, "ifMerged(0, 3, 6, 1)", y -> y.ifMerged(0, 3, 6, 1), 1);
-        ConsonantIndex x = made.get();
+        Index x = made.get();
         for (int i = 0; i < 7; i++) x.ifMerged(1, 1, 2, 0);
         Check.due("mergers", x.ofEar(1, 1), 0);
         for (String name : new String[] {"tas", "lala", "pha", "mas", "thar"}) Check.addName(x, name);
@@ -68,7 +68,7 @@ final class OthersSentences {
             }
         }
         Sentence.of("what: 0 drawers then, 1 pairs of names that are heard alike then");
-        ConsonantIndex z = withEar("ra", "ta", "la", "da", "ram");
+        Index z = withEar("ra", "ta", "la", "da", "ram");
         Check.due("drawers", z.ofEar(0, 2), 4);
         Check.due("pairs", z.ofEar(0, 5), 1);
         Check.due("ifMerged(0, 3, 6, 0)", z.ifMerged(0, 3, 6, 0), 3);
@@ -89,11 +89,11 @@ final class OthersSentences {
     }
 
     private static void ifMergedErrors() {
-        ConsonantIndex x = withTwoEars("ra", "ta");
+        Index x = withTwoEars("ra", "ta");
         Sentence.of("NO_SUCH if there is no such ear;");
         Check.dueForAll("ear", NO_EARS_OF_TWO, n -> x.ifMerged(n, 1, 2, 0), Check.NO_SUCH);
         Check.dueForAll("ear, and all else wrong", NO_EARS_OF_TWO, n -> x.ifMerged(n, 10, 10, 2), Check.NO_SUCH);
-        Check.due("without ears", new ConsonantIndex().ifMerged(0, 1, 2, 0), Check.NO_SUCH);
+        Check.due("without ears", new Index().ifMerged(0, 1, 2, 0), Check.NO_SUCH);
         Sentence.of("BAD_VALUE if an argument is out of range, or both classes are the same.");
         for (int what = 0; what < 2; what++) {
             int asked = what;
@@ -107,7 +107,7 @@ final class OthersSentences {
         Check.due("into 9, from 0", x.ifMerged(0, 9, 0, 0), 2);
     }
 
-    private static void bestDue(ConsonantIndex x, int lower, int higher, int pairs) {
+    private static void bestDue(Index x, int lower, int higher, int pairs) {
         Check.due("bestMerger(0, 0)", x.bestMerger(0, 0), lower);
         Check.due("bestMerger(0, 1)", x.bestMerger(0, 1), higher);
         Check.due("bestMerger(0, 2)", x.bestMerger(0, 2), pairs);
@@ -121,7 +121,7 @@ final class OthersSentences {
         Sentence.changesNothing(() -> withEar("ra", "ta"), "bestMerger(0, 1)", y -> y.bestMerger(0, 1), 2);
         bestDue(withEar(), 1, 2, 0);
         // ba 1, ca 2, da 3, la 4, ma 5, ra 6: each merger makes one pair.
-        ConsonantIndex x = withEar("ba", "ca", "da", "la", "ma", "ra");
+        Index x = withEar("ba", "ca", "da", "la", "ma", "ra");
         bestDue(x, 1, 2, 1);
         Check.addName(x, "bba");
         bestDue(x, 2, 3, 2);
@@ -135,7 +135,7 @@ final class OthersSentences {
         // No name has the class 6: merging it makes no pair, and the lowest lower one of those is 1.
         bestDue(x, 1, 6, 4);
         // Of those with the lowest lower one that with the lowest higher one.
-        ConsonantIndex y = withEar("ba", "ca", "da", "ma");
+        Index y = withEar("ba", "ca", "da", "ma");
         bestDue(y, 1, 4, 0);
         y.hear(0, L, 8);
         bestDue(y, 1, 6, 0);
@@ -150,7 +150,7 @@ final class OthersSentences {
         y.second(0, 0, 4);
         bestDue(y, 1, 2, 1);
         // Only two classes are left, and one that is silent.
-        ConsonantIndex z = withEar("ra", "la");
+        Index z = withEar("ra", "la");
         for (int kind : new int[] {1, 2, 3, 5}) z.merge(0, 0, kind);
         bestDue(z, 4, 6, 1);
         z.second(0, R, 4);
@@ -163,20 +163,20 @@ final class OthersSentences {
         z.hear(0, M, 8);
         bestDue(z, 8, 9, 0);
         Sentence.of("what: 0 the lower one, 1 the higher one, 2 the pairs then");
-        ConsonantIndex w = withEar("ba", "ca", "da", "la", "ma", "ra", "cca", "pa", "dda", "lla");
+        Index w = withEar("ba", "ca", "da", "la", "ma", "ra", "cca", "pa", "dda", "lla");
         bestDue(w, 5, 6, 5);
         Sentence.of("Returns the number;");
         Check.due("bestMerger(0, 2)", w.bestMerger(0, 2), 5);
     }
 
     private static void bestMergerErrors() {
-        ConsonantIndex x = withTwoEars("ra", "ta");
+        Index x = withTwoEars("ra", "ta");
         Sentence.of("NO_SUCH if there is no such ear;");
         for (int what = 0; what < 3; what++) {
             int asked = what;
             Check.dueForAll("ear", NO_EARS_OF_TWO, n -> x.bestMerger(n, asked), Check.NO_SUCH);
         }
-        Check.due("without ears", new ConsonantIndex().bestMerger(0, 0), Check.NO_SUCH);
+        Check.due("without ears", new Index().bestMerger(0, 0), Check.NO_SUCH);
         Sentence.of("BAD_VALUE if what is out of range;");
         Check.dueForAll("what", Check.outside(0, 2), n -> x.bestMerger(0, n), Check.BAD_VALUE);
         Sentence.of("NONE if there are no two such classes.");
@@ -198,7 +198,7 @@ final class OthersSentences {
         Sentence.under("Promise 22: quarrel");
         Sentence.of("Tells over how many pairs of names two ears quarrel: pairs that the first one hears alike, and the other "
             + "one does not.");
-        ConsonantIndex x = withTwoEars("ta", "da", "ra", "la", "ba", "pa");
+        Index x = withTwoEars("ta", "da", "ra", "la", "ba", "pa");
         Check.due("ears that are the same", x.quarrel(0, 1), 0);
         x.merge(1, 3, 6);
         x.hear(1, D, 9);
@@ -214,7 +214,7 @@ final class OthersSentences {
         Check.due("quarrel(0, 1)", x.quarrel(0, 1), 1);
         Check.due("quarrel(1, 0)", x.quarrel(1, 0), 6);
         Sentence.of("Returns how many;");
-        ConsonantIndex full = withTwoEars();
+        Index full = withTwoEars();
         for (int i = 0; i < 24; i++) Check.addName(full, "tdlr".charAt(i / 6) + "" + "aeiouy".charAt(i % 6));
         full.merge(1, 0, 3);
         full.merge(1, 0, 4);
@@ -226,13 +226,13 @@ final class OthersSentences {
         Check.dueForAll("ear", NO_EARS_OF_TWO, n -> x.quarrel(n, 0), Check.NO_SUCH);
         Check.dueForAll("other", NO_EARS_OF_TWO, n -> x.quarrel(0, n), Check.NO_SUCH);
         Check.dueForAll("both", NO_EARS_OF_TWO, n -> x.quarrel(n, n), Check.NO_SUCH);
-        Check.due("without ears", new ConsonantIndex().quarrel(0, 0), Check.NO_SUCH);
+        Check.due("without ears", new Index().quarrel(0, 0), Check.NO_SUCH);
     }
 
     private static void deafest() {
         Sentence.under("Promise 23: deafest");
         Sentence.of("Finds the ear that hears the most pairs of names alike, of several the lowest one.");
-        ConsonantIndex x = withTwoEars("ta", "ra", "la", "ba");
+        Index x = withTwoEars("ta", "ra", "la", "ba");
         x.ear(Check.NONE);
         x.ear(Check.NONE);
         Check.due("all of them hear none", x.deafest(), 0);
@@ -252,16 +252,16 @@ final class OthersSentences {
         Check.due("the last one hears six", x.deafest(), 3);
         Sentence.changesNothing(() -> withTwoEars("ta", "da"), "deafest()", y -> y.deafest(), 0);
         // One pair that shares two drawers is one pair: not more than one pair of another ear.
-        ConsonantIndex y = withTwoEars("ta", "da");
+        Index y = withTwoEars("ta", "da");
         y.second(1, T, 7);
         y.second(1, D, 7);
         Check.due("a pair with two codes in common", y.deafest(), 0);
         Sentence.of("Returns the ear;");
         Check.due("without names", withTwoEars().deafest(), 0);
         Sentence.of("NONE without ears.");
-        Check.due("without ears", new ConsonantIndex().deafest(), Check.NONE);
+        Check.due("without ears", new Index().deafest(), Check.NONE);
         Check.due("without ears", Check.withNames("ta", "da").deafest(), Check.NONE);
-        ConsonantIndex undone = withEar("ta");
+        Index undone = withEar("ta");
         undone.undo();
         Check.due("without ears behind undo()", undone.deafest(), Check.NONE);
     }
@@ -269,7 +269,7 @@ final class OthersSentences {
     private static void put() {
         Sentence.under("Promise 24: put");
         Sentence.of("Appends characters to the pad.");
-        ConsonantIndex x = new ConsonantIndex();
+        Index x = new Index();
         x.put('x');
         x.put('y');
         x.put(Check.characters("ab"));
@@ -290,7 +290,7 @@ final class OthersSentences {
             Check.due("a name of " + size, Check.nameAt(x, size + 1), text);
         }
         Sentence.of("characters: 1 to 8 characters");
-        ConsonantIndex y = new ConsonantIndex();
+        Index y = new Index();
         int length = 0;
         for (int size = 1; size <= 8; size++) {
             length += size;
@@ -303,40 +303,42 @@ final class OthersSentences {
         Check.due("put(a)", y.put('a'), 1);
     }
 
+    /** On a new object: the answer, and the length of the pad behind it. */
+    private static void putDue(String told, long characters, int want) {
+        Index x = new Index();
+        Check.due(told, x.put(characters), want);
+        Check.due("the pad behind " + told, x.count(4), Math.max(want, 0));
+    }
+
     private static void putErrors() {
         Sentence.of("BAD_VALUE if there is no character, a code is not 33 to 126, or a bit above 8 bits that are 0 is not 0;");
-        ConsonantIndex x = new ConsonantIndex();
-        Check.due("no character", x.put(0), Check.BAD_VALUE);
+        putDue("no character", 0, Check.BAD_VALUE);
         for (int place = 0; place < 8; place++) {
             long others = 0x6161616161616161L >>> 8 * (7 - place) & ~(255L << 8 * place);
             for (int code = 1; code < 256; code++) {
-                x.wipe();
                 int due = code >= 33 && code <= 126 ? place + 1 : Check.BAD_VALUE;
-                Check.due("code " + code + " as the first one of " + (place + 1), x.put((long) code << 8 * place | others), due);
+                putDue("code " + code + " as the first one of " + (place + 1), (long) code << 8 * place | others, due);
                 if (place == 7) continue;
                 // As the last one, with characters ahead of it.
-                x.wipe();
                 long ahead = 0x6161616161616161L & ~255L << 8 * place & ~((1L << 8 * place) - 1);
                 long behind = 0x6161616161616161L & (1L << 8 * place) - 1;
                 due = code >= 33 && code <= 126 ? 8 : Check.BAD_VALUE;
-                Check.due("code " + code + " in between", x.put(ahead | behind | (long) code << 8 * place), due);
+                putDue("code " + code + " in between", ahead | behind | (long) code << 8 * place, due);
             }
             if (place == 0) continue;
             for (int bit = 8 * place; bit < 64; bit++) {
-                x.wipe();
                 long below = 0x6161616161616161L & (1L << 8 * (place - 1)) - 1;
-                Check.due("bit " + bit + " above 8 bits that are 0", x.put(1L << bit | below), Check.BAD_VALUE);
+                putDue("bit " + bit + " above 8 bits that are 0", 1L << bit | below, Check.BAD_VALUE);
             }
         }
-        Check.due("a character above 8 bits that are 0", x.put(0x610061L), Check.BAD_VALUE);
-        Check.due("a character above 8 bits that are 0", x.put(0x6100L), Check.BAD_VALUE);
-        Check.due("the highest bit", x.put(Long.MIN_VALUE), Check.BAD_VALUE);
-        Check.due("all bits", x.put(-1), Check.BAD_VALUE);
-        Check.due("the pad", x.count(4), 0);
+        putDue("a character above 8 bits that are 0", 0x610061L, Check.BAD_VALUE);
+        putDue("a character above 8 bits that are 0", 0x6100L, Check.BAD_VALUE);
+        putDue("the highest bit", Long.MIN_VALUE, Check.BAD_VALUE);
+        putDue("all bits", -1, Check.BAD_VALUE);
         Sentence.of("TOO_MANY if the pad would be longer than 80.");
         for (int size = 1; size <= 8; size++) {
             for (int length = 72; length <= 80; length++) {
-                ConsonantIndex y = new ConsonantIndex();
+                Index y = new Index();
                 for (int i = 0; i < length; i++) y.put('b');
                 int due = length + size <= 80 ? length + size : Check.TOO_MANY;
                 long text = 0x6161616161616161L >>> 8 * (8 - size);
@@ -349,7 +351,7 @@ final class OthersSentences {
     private static void wipe() {
         Sentence.under("Promise 25: wipe");
         Sentence.of("Empties the pad, and returns the length that it had.");
-        ConsonantIndex x = Check.withNames("ta");
+        Index x = Check.withNames("ta");
         Check.due("wipe() of nothing", x.wipe(), 0);
         for (int length : new int[] {1, 2, 10, 11, 79, 80}) {
             for (int i = 0; i < length; i++) x.put('~');
@@ -367,7 +369,7 @@ final class OthersSentences {
     private static void fault() {
         Sentence.under("Promise 26: fault");
         Sentence.of("Returns the fault of the pad, NONE if there is none.");
-        ConsonantIndex x = new ConsonantIndex();
+        Index x = new Index();
         Check.due("of nothing", x.fault(), 0);
         for (int i = 0; i < 10; i++) {
             x.put('a' + i);
@@ -377,7 +379,7 @@ final class OthersSentences {
         Check.due("of 11", x.fault(), 10);
         Check.due("the pad stays", x.count(4), 11);
         Sentence.changesNothing(() -> {
-            ConsonantIndex y = withEar("ta");
+            Index y = withEar("ta");
             Check.type(y, "ta!");
             return y;
         }, "fault()", y -> y.fault(), 2);
@@ -392,7 +394,7 @@ final class OthersSentences {
             x -> x.second(1, T, 5), x -> x.habits(0, 6), x -> x.merge(0, 3, 4), x -> x.split(0), x -> x.restore(0)
         };
         for (int i = 0; i < changes.length; i++) {
-            ConsonantIndex x = withTwoEars("ta", "los");
+            Index x = withTwoEars("ta", "los");
             x.save(0);
             x.second(0, T, 7);
             x.habits(0, 1);
@@ -415,7 +417,7 @@ final class OthersSentences {
             Check.due("split behind undo", x.split(0), Check.NOT_POSSIBLE);
         }
         undoOfMergers();
-        ConsonantIndex x = new ConsonantIndex();
+        Index x = new Index();
         Check.type(x, "ta");
         x.add();
         x.undo();
@@ -424,8 +426,8 @@ final class OthersSentences {
     }
 
     /** An ear whose two mergers have letters and second classes of their own. */
-    private static ConsonantIndex withMergers() {
-        ConsonantIndex x = withEar();
+    private static Index withMergers() {
+        Index x = withEar();
         x.second(0, 0, 6);
         x.second(0, S, 9);
         x.merge(0, 3, 6);
@@ -434,14 +436,14 @@ final class OthersSentences {
     }
 
     /** Takes the mergers back, and makes other ones in their place. */
-    private static void mergeOthers(ConsonantIndex x) {
+    private static void mergeOthers(Index x) {
         x.split(0);
         x.split(0);
         x.merge(0, 1, 4);
         x.merge(0, 5, 2);
     }
 
-    private static void mergersDue(ConsonantIndex x) {
+    private static void mergersDue(Index x) {
         Check.due("mergers", x.ofEar(0, 1), 2);
         Check.due("second class of s", x.of(0, S, 1), 8);
         Check.due("second class of a", x.of(0, 0, 1), 3);
@@ -459,7 +461,7 @@ final class OthersSentences {
     }
 
     private static void undoOfMergers() {
-        ConsonantIndex x = withMergers();
+        Index x = withMergers();
         mergeOthers(x);
         for (int i = 0; i < 4; i++) x.undo();
         mergersDue(x);
@@ -469,7 +471,7 @@ final class OthersSentences {
         Sentence.of("A history of at most 6 states is kept: each method that is a change, and returns no error, records the "
             + "state before it (also if nothing is different then); when one more is recorded, the oldest one is dropped.");
         for (int many = 0; many <= 14; many++) {
-            ConsonantIndex x = new ConsonantIndex();
+            Index x = new Index();
             for (int i = 0; i < many; i++) {
                 Check.addName(x, "n" + (char) ('a' + i));
                 Check.due("count(5)", x.count(5), Math.min(6, i + 1));
@@ -482,7 +484,7 @@ final class OthersSentences {
             }
             Check.due("undo() beyond", x.undo(), Check.NOT_POSSIBLE);
         }
-        ConsonantIndex same = withTwoEars("ta");
+        Index same = withTwoEars("ta");
         same.save(0);
         Sentence.Call[] nothing = {
             y -> y.set(LENGTH, 4), y -> y.set(NAMES, 24), y -> y.hear(0, T, 3), y -> y.second(0, T, Check.NONE),
@@ -496,7 +498,7 @@ final class OthersSentences {
             Check.due("count(5) behind the same, " + i, same.count(5), Math.min(6, i + 2));
             Check.due("what there is", Check.pictureWithoutPad(same), before);
         }
-        ConsonantIndex mixed = new ConsonantIndex();
+        Index mixed = new Index();
         mixed.ear(Check.NONE);
         mixed.second(0, T, 9);
         Check.due("count(5) behind a change that returns NONE", mixed.count(5), 2);
@@ -519,12 +521,12 @@ final class OthersSentences {
         Check.due("undo()", mixed.undo(), 0);
         Sentence.of("NOT_POSSIBLE if there is none.");
         Check.due("undo()", mixed.undo(), Check.NOT_POSSIBLE);
-        Check.due("undo() of a new object", new ConsonantIndex().undo(), Check.NOT_POSSIBLE);
+        Check.due("undo() of a new object", new Index().undo(), Check.NOT_POSSIBLE);
     }
 
     /** All that a slot has to keep, with values of its own for each number. */
-    private static ConsonantIndex state(int number) {
-        ConsonantIndex x = withTwoEars("ta", "los", "n" + (char) ('a' + number));
+    private static Index state(int number) {
+        Index x = withTwoEars("ta", "los", "n" + (char) ('a' + number));
         x.set(LENGTH, 1 + number);
         x.set(NAMES, 10 + number);
         x.hear(1, 0, 5 + number);
@@ -540,7 +542,7 @@ final class OthersSentences {
         Sentence.under("Promise 28: save");
         Sentence.of("Saves everything except the pad, the history and the slots in a slot, and overwrites what was saved there.");
         for (int slot = 0; slot < 2; slot++) {
-            ConsonantIndex x = state(2);
+            Index x = state(2);
             String saved = Check.pictureWithoutPad(x);
             Check.type(x, "pad");
             x.save(slot);
@@ -568,7 +570,7 @@ final class OthersSentences {
             Check.due("the other slot", x.restore(1 - slot), Check.NOT_POSSIBLE);
         }
         savedMergers();
-        ConsonantIndex x = withEar("ta");
+        Index x = withEar("ta");
         x.save(0);
         x.drop(0);
         x.save(1);
@@ -590,7 +592,7 @@ final class OthersSentences {
 
     private static void savedMergers() {
         for (int slot = 0; slot < 2; slot++) {
-            ConsonantIndex x = withMergers();
+            Index x = withMergers();
             x.save(slot);
             mergeOthers(x);
             x.save(1 - slot);
@@ -605,11 +607,11 @@ final class OthersSentences {
 
     private static void saveErrors() {
         Sentence.of("slot: 0 or 1");
-        ConsonantIndex x = Check.withNames("ta");
+        Index x = Check.withNames("ta");
         Check.due("save(0)", x.save(0), 1);
         Check.due("save(1)", x.save(1), 1);
         Sentence.of("Returns how many names there are;");
-        ConsonantIndex y = new ConsonantIndex();
+        Index y = new Index();
         for (int i = 0; i < 24; i++) {
             Check.due("save()", y.save(i % 2), i);
             Check.addName(y, "n" + (char) ('a' + i));
@@ -624,7 +626,7 @@ final class OthersSentences {
         Sentence.under("Promise 29: restore");
         Sentence.of("Restores what was saved last in a slot, which keeps it.");
         for (int slot = 0; slot < 2; slot++) {
-            ConsonantIndex x = state(1);
+            Index x = state(1);
             x.save(slot);
             x.merge(1, 4, 3);
             x.save(slot);
@@ -640,22 +642,22 @@ final class OthersSentences {
             }
         }
         Sentence.of("This is a change.");
-        Supplier<ConsonantIndex> saved = () -> {
-            ConsonantIndex x = withEar("ta", "la");
+        Supplier<Index> saved = () -> {
+            Index x = withEar("ta", "la");
             x.save(0);
             x.merge(0, 1, 2);
             x.drop(0);
             return x;
         };
         Sentence.isChange(saved, "restore(0)", x -> x.restore(0), 2);
-        ConsonantIndex x = saved.get();
+        Index x = saved.get();
         x.restore(0);
         x.undo();
         Check.due("split behind undo() of restore(0)", x.split(0), 2);
         Check.due("restore(0) behind undo()", x.restore(0), 2);
         Check.due("split behind restore(0)", x.split(0), Check.NOT_POSSIBLE);
         // Ears that a restored state has not, and that come again, are as ears are at first.
-        ConsonantIndex y = new ConsonantIndex();
+        Index y = new Index();
         y.save(0);
         y.ear(Check.NONE);
         y.hear(0, T, 9);
@@ -673,7 +675,7 @@ final class OthersSentences {
 
     private static void restoreErrors() {
         Sentence.of("slot: 0 or 1");
-        ConsonantIndex x = Check.withNames("ta");
+        Index x = Check.withNames("ta");
         x.save(0);
         x.drop(0);
         x.save(1);
@@ -690,7 +692,7 @@ final class OthersSentences {
         Check.dueForAll("slot", Check.outside(0, 1), x::restore, Check.BAD_VALUE);
         Check.due("restore(NONE)", x.restore(Check.NONE), Check.BAD_VALUE);
         Sentence.of("NOT_POSSIBLE if nothing was saved in it.");
-        ConsonantIndex y = Check.withNames("ta");
+        Index y = Check.withNames("ta");
         Check.due("restore(0)", y.restore(0), Check.NOT_POSSIBLE);
         Check.due("restore(1)", y.restore(1), Check.NOT_POSSIBLE);
         y.save(1);

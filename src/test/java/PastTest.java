@@ -17,7 +17,7 @@ final class PastTest {
 
     private static void undo() {
         Check.part("promise 27, undo");
-        ConsonantIndex x = new ConsonantIndex();
+        Index x = new Index();
         Check.refused(x, "undo() of nothing", x::undo, Check.NOT_POSSIBLE);
         List<String> pictures = new ArrayList<>();
         for (int i = 0; i < 8; i++) {
@@ -40,7 +40,7 @@ final class PastTest {
     }
 
     private interface Change {
-        int on(ConsonantIndex x);
+        int on(Index x);
     }
 
     private static void undoOfEachChange() {
@@ -55,7 +55,7 @@ final class PastTest {
             x -> x.hear(0, 3, 3), x -> x.second(0, 3, -6), x -> x.habits(0, 1), x -> x.merge(0, 8, 7), x -> x.restore(1)
         };
         for (int i = 0; i < changes.length; i++) {
-            ConsonantIndex x = new ConsonantIndex();
+            Index x = new Index();
             x.save(0);
             Check.addName(x, "shasta");
             Check.addName(x, "dirk");
@@ -76,7 +76,7 @@ final class PastTest {
 
     private static void whatIsNoChange() {
         Check.part("promise 27, what is no change");
-        ConsonantIndex x = Check.withNames("ada", "ben");
+        Index x = Check.withNames("ada", "ben");
         x.ear(Check.NONE);
         int changes = x.count(5);
         x.put('a');
@@ -95,7 +95,7 @@ final class PastTest {
     /** On an object whose history is not full, so that one more would be seen. */
     private static void errorsRecordNothing() {
         Check.part("promise 27, errors record nothing");
-        ConsonantIndex x = new ConsonantIndex();
+        Index x = new Index();
         x.ear(Check.NONE);
         Change[] errors = {
             y -> y.set(0, 6), y -> y.set(1, 25), y -> y.set(2, 1), y -> y.add(), y -> y.drop(0), y -> y.ear(1),
@@ -114,7 +114,7 @@ final class PastTest {
         Check.due("count(5) behind it", x.count(5), 4);
         Check.due("undo()", x.undo(), 3);
         Check.due("count(1)", x.count(1), 3);
-        ConsonantIndex names = Check.withNames("ada");
+        Index names = Check.withNames("ada");
         Check.due("a name that there is", Check.addName(names, "ada"), Check.NOT_POSSIBLE);
         Check.due("count(5) behind it", names.count(5), 1);
         names.set(1, 1);
@@ -124,7 +124,7 @@ final class PastTest {
 
     private static void save() {
         Check.part("promise 28, save");
-        ConsonantIndex x = Check.withNames("ada", "ben");
+        Index x = Check.withNames("ada", "ben");
         Check.asked(x, "save(0)", () -> x.save(0), 2);
         for (int far : Check.FAR) Check.refused(x, "save(" + far + ")", () -> x.save(far), Check.BAD_VALUE);
         Check.refused(x, "save(2)", () -> x.save(2), Check.BAD_VALUE);
@@ -146,7 +146,7 @@ final class PastTest {
 
     private static void restore() {
         Check.part("promise 29, restore");
-        ConsonantIndex x = Check.withNames("ada", "ben");
+        Index x = Check.withNames("ada", "ben");
         for (int far : Check.FAR) Check.refused(x, "restore(" + far + ")", () -> x.restore(far), Check.BAD_VALUE);
         Check.refused(x, "restore(2)", () -> x.restore(2), Check.BAD_VALUE);
         Check.refused(x, "restore(-1)", () -> x.restore(-1), Check.BAD_VALUE);
@@ -168,7 +168,7 @@ final class PastTest {
 
     private static void settingsAndEarsAreSaved() {
         Check.part("promise 28, what is saved");
-        ConsonantIndex x = Check.withNames("shasta", "ben");
+        Index x = Check.withNames("shasta", "ben");
         x.set(0, 2);
         x.set(1, 9);
         x.ear(Check.NONE);

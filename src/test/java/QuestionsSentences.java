@@ -23,8 +23,8 @@ final class QuestionsSentences {
         findErrors();
     }
 
-    private static ConsonantIndex withEar(String... names) {
-        ConsonantIndex x = Check.withNames(names);
+    private static Index withEar(String... names) {
+        Index x = Check.withNames(names);
         x.ear(Check.NONE);
         return x;
     }
@@ -32,7 +32,7 @@ final class QuestionsSentences {
     private static void name() {
         Sentence.under("Promise 11: name");
         Sentence.of("Returns something about a name.");
-        ConsonantIndex x = Check.withNames("zab", "q", "abcdefghij");
+        Index x = Check.withNames("zab", "q", "abcdefghij");
         Sentence.changesNothing(() -> Check.withNames("zab"), "name(0, 0)", y -> y.name(0, 0), 3);
         Sentence.of("what: 0 how many letters, 1 to 10 the letter at that place, from 1 on (NONE behind its end), 11 its "
             + "letters, as a set");
@@ -54,7 +54,7 @@ final class QuestionsSentences {
         Sentence.of("NO_SUCH if there is no such name;");
         Check.dueForAll("name", Check.outside(0, 3), n -> x.name(n, 0), Check.NO_SUCH);
         Check.due("name(-6, 1)", x.name(-6, 1), Check.NO_SUCH);
-        Check.due("name(0, 0) without names", new ConsonantIndex().name(0, 0), Check.NO_SUCH);
+        Check.due("name(0, 0) without names", new Index().name(0, 0), Check.NO_SUCH);
         Check.due("name(4, 10)", x.name(4, 10), Check.NO_SUCH);
         x.drop(0);
         Check.due("name(3, 0) behind drop", x.name(3, 0), Check.NO_SUCH);
@@ -67,7 +67,7 @@ final class QuestionsSentences {
         Sentence.under("Promise 12: of");
         Sentence.of("Returns something about how an ear hears a letter.");
         Sentence.changesNothing(() -> withEar("zab"), "of(0, 1, 0)", y -> y.of(0, 1, 0), 1);
-        ConsonantIndex x = withEar("zab");
+        Index x = withEar("zab");
         x.hear(0, B, 4);
         x.second(0, B, 6);
         x.second(0, R, 4);
@@ -91,13 +91,13 @@ final class QuestionsSentences {
             Check.dueForAll("ear", NO_EARS_OF_ONE, n -> x.of(n, 0, asked), Check.NO_SUCH);
             Check.dueForAll("letter", Check.outside(0, 25), n -> x.of(0, n, asked), Check.NO_SUCH);
         }
-        Check.due("of(0, 0, 0) without ears", new ConsonantIndex().of(0, 0, 0), Check.NO_SUCH);
+        Check.due("of(0, 0, 0) without ears", new Index().of(0, 0, 0), Check.NO_SUCH);
         Sentence.of("BAD_VALUE if what is out of range.");
         Check.dueForAll("what", Check.outside(0, 2), n -> x.of(0, 0, n), Check.BAD_VALUE);
         Check.due("what NONE", x.of(0, 0, Check.NONE), Check.BAD_VALUE);
     }
 
-    private static void ofEarDue(ConsonantIndex x, int what, int want) {
+    private static void ofEarDue(Index x, int what, int want) {
         Check.due("ofEar(0, " + what + ")", x.ofEar(0, what), want);
     }
 
@@ -113,7 +113,7 @@ final class QuestionsSentences {
         Sentence.of("what: 0 its habits, 1 mergers that it remembers, 2 drawers, 3 names in its fullest drawer, 4 names that "
             + "are in two drawers or more, as a set, 5 pairs of names that it hears alike, 6 letters with a second class, "
             + "as a set, 7 its silent letters, by their class, as a set");
-        ConsonantIndex x = withEar();
+        Index x = withEar();
         for (int what = 0; what < 7; what++) ofEarDue(x, what, 0);
         Check.addName(x, "ca");
         ofEarDue(x, 2, 1);
@@ -149,7 +149,7 @@ final class QuestionsSentences {
         ofEarDue(x, 7, Check.letters("aehiouwyrl"));
         x.habits(0, 5);
         ofEarDue(x, 0, 5);
-        ConsonantIndex full = withEar();
+        Index full = withEar();
         for (int i = 0; i < 24; i++) Check.addName(full, "aeio".charAt(i / 6) + "" + "aeiouy".charAt(i % 6));
         ofEarDue(full, 2, 1);
         ofEarDue(full, 3, 24);
@@ -160,13 +160,13 @@ final class QuestionsSentences {
 
     private static void ofEarErrors() {
         Sentence.of("Returns the number;");
-        ConsonantIndex x = withEar("zab");
+        Index x = withEar("zab");
         ofEarDue(x, 2, 1);
         Sentence.of("NO_SUCH if there is no such ear;");
         for (int what = 0; what < 8; what++) {
             int asked = what;
             Check.dueForAll("ear", NO_EARS_OF_ONE, n -> x.ofEar(n, asked), Check.NO_SUCH);
-            Check.due("ofEar(0, " + what + ") without ears", new ConsonantIndex().ofEar(0, what), Check.NO_SUCH);
+            Check.due("ofEar(0, " + what + ") without ears", new Index().ofEar(0, what), Check.NO_SUCH);
         }
         x.undo();
         Check.due("ofEar(0, 0) behind undo", x.ofEar(0, 0), Check.NO_SUCH);
@@ -179,7 +179,7 @@ final class QuestionsSentences {
     private static void code() {
         Sentence.under("Promise 14: code");
         Sentence.of("Returns something about a code of a name.");
-        ConsonantIndex x = withEar("tl", "lt", "rm", "a");
+        Index x = withEar("tl", "lt", "rm", "a");
         x.second(0, T, 8);
         x.second(0, L, 9);
         Sentence.changesNothing(() -> withEar("zab"), "code(0, 0, 0, 0)", y -> y.code(0, 0, 0, 0), 2);
@@ -212,7 +212,7 @@ final class QuestionsSentences {
     }
 
     private static void codeErrors() {
-        ConsonantIndex x = withEar("tl", "rm");
+        Index x = withEar("tl", "rm");
         x.second(0, T, 8);
         Sentence.of("NO_SUCH if there is no such ear or name, or it has not so many codes;");
         for (int place = 0; place < 7; place++) {
@@ -231,7 +231,7 @@ final class QuestionsSentences {
         Check.dueForAll("place", Check.outside(0, 6), n -> x.code(0, 0, 0, n), Check.BAD_VALUE);
         Check.due("place NONE", x.code(0, 0, 0, Check.NONE), Check.BAD_VALUE);
         Sentence.of("NONE if the code is not so long.");
-        ConsonantIndex y = withEar("a", "b", "bc", "bcd", "bcdl", "bcdlm");
+        Index y = withEar("a", "b", "bc", "bcd", "bcdl", "bcdlm");
         y.set(LENGTH, 5);
         for (int size = 0; size <= 5; size++) {
             for (int place = 0; place < 5; place++) {
@@ -247,7 +247,7 @@ final class QuestionsSentences {
     private static void drawer() {
         Sentence.under("Promise 15: drawer");
         Sentence.of("Returns the names of a drawer of an ear.");
-        ConsonantIndex x = withEar("ta", "ra", "da", "a", "tar");
+        Index x = withEar("ta", "ra", "da", "a", "tar");
         Sentence.changesNothing(() -> withEar("ta", "ra", "da"), "drawer(0, 0, 0)", y -> y.drawer(0, 0, 0), 5);
         Check.due("drawers", Check.drawers(x, 0, 0), "0 2, 1, 3, 4");
         x.ear(Check.NONE);
@@ -256,7 +256,7 @@ final class QuestionsSentences {
         Sentence.of("Returns the names, as a set;");
         Check.due("drawer(0, 0, 0)", x.drawer(0, 0, 0), 5);
         Check.due("drawer(0, 0, 1)", x.drawer(0, 0, 1), 8);
-        ConsonantIndex full = withEar();
+        Index full = withEar();
         for (int i = 0; i < 24; i++) Check.addName(full, "aeio".charAt(i / 6) + "" + "aeiouy".charAt(i % 6));
         Check.due("drawer(0, 0, 0) of 24 names", full.drawer(0, 0, 0), (1 << 24) - 1);
         Sentence.of("NO_SUCH if there is no such ear, or not so many drawers;");
@@ -277,7 +277,7 @@ final class QuestionsSentences {
     private static void drawerOrder() {
         Sentence.of("order: 0 the drawers in their order; 1 by their codes: shorter ones first, of the same length by their "
             + "numbers from the first one on");
-        ConsonantIndex x = withEar("rmlkb", "rmlk", "rmlt", "bat", "tab", "l", "a", "bal", "b");
+        Index x = withEar("rmlkb", "rmlk", "rmlt", "bat", "tab", "l", "a", "bal", "b");
         x.set(LENGTH, 5);
         // 6 5 4 2 1, 6 5 4 2, 6 5 4 3, 1 3, 3 1, 4, none, 1 4, 1
         Check.due("in their order", Check.drawers(x, 0, 0), "0, 1, 2, 3, 4, 5, 6, 7, 8");
@@ -289,7 +289,7 @@ final class QuestionsSentences {
         x.habits(0, 4);
         // 27 5 three times, 11 3, 29 1, 21, 10, 11 4, 11
         Check.due("by their codes", Check.drawers(x, 0, 1), "6, 8, 5, 3, 7, 0 1 2, 4");
-        ConsonantIndex y = withEar("tl", "za", "ab");
+        Index y = withEar("tl", "za", "ab");
         y.set(LENGTH, 5);
         y.habits(0, 4);
         // 29 4, 35, 10 1: 35 alone is shorter, though it is more
@@ -299,7 +299,7 @@ final class QuestionsSentences {
         // 3 4, 2 4; 2; 1
         Check.due("in their order", Check.drawers(y, 0, 0), "0, 0, 1, 2");
         Check.due("by their codes", Check.drawers(y, 0, 1), "2, 1, 0, 0");
-        ConsonantIndex z = withEar("bcbcb", "bcbca", "bcdcb", "bbcbd");
+        Index z = withEar("bcbcb", "bcbca", "bcdcb", "bbcbd");
         z.set(LENGTH, 5);
         // 1 2 1 2 1, 1 2 1 2, 1 2 3 2 1, 1 2 1 3
         Check.due("by their codes", Check.drawers(z, 0, 1), "1, 3, 0, 2");
@@ -311,7 +311,7 @@ final class QuestionsSentences {
         Sentence.changesNothing(() -> withEar("zab"), "count(0)", y -> y.count(0), 1);
         Sentence.of("what: 0 names, 1 ears, 2, 3 the settings, 4 the length of the pad, 5 how many changes can be undone, 6 "
             + "letters that occur in names, as a set");
-        ConsonantIndex x = withEar("zab", "cob");
+        Index x = withEar("zab", "cob");
         x.ear(Check.NONE);
         x.ear(Check.NONE);
         x.set(LENGTH, 2);
@@ -346,7 +346,7 @@ final class QuestionsSentences {
         Sentence.under("Promise 17: alike");
         Sentence.of("Tells whether an ear hears two names alike.");
         Sentence.changesNothing(() -> withEar("ta", "da"), "alike(0, 0, 1)", y -> y.alike(0, 0, 1), 1);
-        ConsonantIndex x = withEar("ta", "da", "ra", "tata");
+        Index x = withEar("ta", "da", "ra", "tata");
         x.ear(Check.NONE);
         x.merge(1, 3, 6);
         Check.due("alike(0, 0, 1)", x.alike(0, 0, 1), 1);
@@ -377,7 +377,7 @@ final class QuestionsSentences {
         Sentence.under("Promise 18: distance");
         Sentence.of("Returns the distance of two names.");
         Sentence.changesNothing(() -> Check.withNames("tam", "mat"), "distance(0, 1)", y -> y.distance(0, 1), 2);
-        ConsonantIndex x = Check.withNames("tam", "mat", "tamara");
+        Index x = Check.withNames("tam", "mat", "tamara");
         int[][] due = {{0, 2, 3}, {2, 0, 4}, {3, 4, 0}};
         for (int one = 0; one < 3; one++) {
             for (int other = 0; other < 3; other++) Check.due("distance", x.distance(one, other), due[one][other]);
@@ -388,12 +388,12 @@ final class QuestionsSentences {
         Check.dueForAll("one", Check.outside(0, 2), n -> x.distance(n, 0), Check.NO_SUCH);
         Check.dueForAll("other", Check.outside(0, 2), n -> x.distance(0, n), Check.NO_SUCH);
         Check.dueForAll("both", Check.outside(0, 2), n -> x.distance(n, n), Check.NO_SUCH);
-        Check.due("distance(0, 0) without names", new ConsonantIndex().distance(0, 0), Check.NO_SUCH);
+        Check.due("distance(0, 0) without names", new Index().distance(0, 0), Check.NO_SUCH);
         x.drop(0);
         Check.due("distance(0, 2) behind drop", x.distance(0, 2), Check.NO_SUCH);
     }
 
-    private static void foundDue(ConsonantIndex x, String text, String names, String distances) {
+    private static void foundDue(Index x, String text, String names, String distances) {
         StringBuilder found = new StringBuilder();
         StringBuilder far = new StringBuilder();
         x.wipe();
@@ -410,7 +410,7 @@ final class QuestionsSentences {
         Sentence.under("Promise 19: find");
         Sentence.of("Looks the name that the pad tells up by an ear (the pad stays): names that it hears like it, the nearest "
             + "one first, of several the lowest one.");
-        ConsonantIndex x = withEar("tamara", "tom", "sam", "dan", "tim", "cam", "a", "to");
+        Index x = withEar("tamara", "tom", "sam", "dan", "tim", "cam", "a", "to");
         Check.type(x, "tum");
         x.find(0, 0, 0);
         Check.due("the pad stays", x.count(4), 3);
@@ -436,7 +436,7 @@ final class QuestionsSentences {
         x.drop(1);
         foundDue(x, "tum", "3 4 6 2 0", "1 2 2 3 4");
         Sentence.changesNothing(() -> {
-            ConsonantIndex y = withEar("tom", "tim");
+            Index y = withEar("tom", "tim");
             Check.type(y, "tam");
             return y;
         }, "find(0, 1, 0)", y -> y.find(0, 1, 0), 1);
@@ -444,7 +444,7 @@ final class QuestionsSentences {
 
     private static void findNearest() {
         Sentence.of("rank: 0 for the first one");
-        ConsonantIndex x = withEar();
+        Index x = withEar();
         for (int i = 0; i < 24; i++) Check.addName(x, "t" + "aeio".charAt(i / 6) + "m" + "aeiouy".charAt(i % 6));
         Check.type(x, "tumy");
         // Those that end in y are at the distance 1, all others at 2.
@@ -476,7 +476,7 @@ final class QuestionsSentences {
 
     private static void findErrors() {
         Sentence.of("BAD_TEXT if the pad has a fault;");
-        ConsonantIndex x = withEar("tam", "dam", "ram");
+        Index x = withEar("tam", "dam", "ram");
         Check.due("an empty pad", x.find(0, 0, 0), Check.BAD_TEXT);
         Check.type(x, "tam!");
         Check.due("a fault", x.find(0, 0, 0), Check.BAD_TEXT);
@@ -497,7 +497,7 @@ final class QuestionsSentences {
         x.wipe();
         Check.type(x, "la");
         Check.due("rank 0 of none", x.find(0, 0, 0), Check.NO_SUCH);
-        ConsonantIndex none = new ConsonantIndex();
+        Index none = new Index();
         none.put('a');
         Check.due("without ears", none.find(0, 0, 0), Check.NO_SUCH);
         none.ear(Check.NONE);

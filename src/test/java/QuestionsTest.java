@@ -20,7 +20,7 @@ final class QuestionsTest {
 
     private static void name() {
         Check.part("promise 11, name");
-        ConsonantIndex x = Check.withNames("azbya", "q", "jihgfedcba");
+        Index x = Check.withNames("azbya", "q", "jihgfedcba");
         int[] due = {5, 0, 25, 1, 24, 0, Check.NONE, Check.NONE, Check.NONE, Check.NONE, Check.NONE, 50331651};
         for (int what = 0; what < due.length; what++) Check.due("name(0, " + what + ")", x.name(0, what), due[what]);
         Check.due("name(1, 0)", x.name(1, 0), 1);
@@ -43,7 +43,7 @@ final class QuestionsTest {
 
     private static void of() {
         Check.part("promise 12, of");
-        ConsonantIndex x = Check.withNames("dirk");
+        Index x = Check.withNames("dirk");
         x.ear(Check.NONE);
         x.second(0, 3, 6);
         Check.asked(x, "of(0, d, 0)", () -> x.of(0, 3, 0), 3);
@@ -67,7 +67,7 @@ final class QuestionsTest {
 
     private static void ofEar() {
         Check.part("promise 13, ofEar");
-        ConsonantIndex x = Check.withNames("tom", "tim", "dan", "sam", "cam", "ria");
+        Index x = Check.withNames("tom", "tim", "dan", "sam", "cam", "ria");
         x.ear(Check.NONE);
         int[] first = {0, 0, 3, 3, 0, 4, 0, Check.letters("aehiouwy")};
         for (int what = 0; what < 8; what++) Check.due("ofEar(0, " + what + ")", x.ofEar(0, what), first[what]);
@@ -87,14 +87,14 @@ final class QuestionsTest {
         Check.asked(x, "ofEar(-1, 0)", () -> x.ofEar(-1, 0), Check.NO_SUCH);
         Check.asked(x, "ofEar(0, 8)", () -> x.ofEar(0, 8), Check.BAD_VALUE);
         Check.asked(x, "ofEar(0, -1)", () -> x.ofEar(0, -1), Check.BAD_VALUE);
-        ConsonantIndex empty = new ConsonantIndex();
+        Index empty = new Index();
         empty.ear(Check.NONE);
         for (int what = 2; what < 6; what++) Check.due("ofEar(0, " + what + ") of none", empty.ofEar(0, what), 0);
     }
 
     private static void code() {
         Check.part("promise 14, code");
-        ConsonantIndex x = Check.withNames("bobby", "pfbvx", "aeiou", "mnmn", "bcdlmr", "tsetse", "bb");
+        Index x = Check.withNames("bobby", "pfbvx", "aeiou", "mnmn", "bcdlmr", "tsetse", "bb");
         x.ear(Check.NONE);
         Check.due("a vowel parts", Check.codeOf(x, 0, 0, 0), "code 1 1");
         Check.due("the same class is put once", Check.codeOf(x, 0, 1, 0), "code 1 2");
@@ -116,7 +116,7 @@ final class QuestionsTest {
         codeErrors(x);
     }
 
-    private static void codeErrors(ConsonantIndex x) {
+    private static void codeErrors(Index x) {
         for (int far : Check.FAR) {
             Check.asked(x, "code(" + far + ", 0, 0, 0)", () -> x.code(far, 0, 0, 0), Check.NO_SUCH);
             Check.asked(x, "code(0, " + far + ", 0, 0)", () -> x.code(0, far, 0, 0), Check.NO_SUCH);
@@ -132,7 +132,7 @@ final class QuestionsTest {
         Check.asked(x, "code(0, 0, 0, 1)", () -> x.code(0, 0, 0, 1), Check.NONE);
     }
 
-    private static void codesDue(ConsonantIndex x, int name, String... codes) {
+    private static void codesDue(Index x, int name, String... codes) {
         for (int which = 0; which < 5; which++) {
             String due = which < codes.length ? codes[which] : "error -1";
             Check.due("code " + which + " of " + Check.nameAt(x, name), Check.codeOf(x, 0, name, which), due);
@@ -141,7 +141,7 @@ final class QuestionsTest {
 
     private static void ways() {
         Check.part("promise 14, ways to hear");
-        ConsonantIndex x = Check.withNames("tatata", "ct", "tc", "tt", "bab", "babcd", "t");
+        Index x = Check.withNames("tatata", "ct", "tc", "tt", "bab", "babcd", "t");
         x.ear(Check.NONE);
         x.second(0, Check.letter('t'), 8);
         x.second(0, Check.letter('c'), 3);
@@ -165,7 +165,7 @@ final class QuestionsTest {
 
     private static void drawer() {
         Check.part("promise 15, drawer");
-        ConsonantIndex x = Check.withNames("rat", "tar", "a", "rot", "bin", "bat", "bid", "r");
+        Index x = Check.withNames("rat", "tar", "a", "rot", "bin", "bat", "bid", "r");
         x.ear(Check.NONE);
         // 63, 36, -, 63, 15, 13, 13, 6
         int[] byNames = {Check.bits(0, 3), Check.bits(1), Check.bits(2), Check.bits(4), Check.bits(5, 6), Check.bits(7)};
@@ -201,7 +201,7 @@ final class QuestionsTest {
     /** 24 names with four codes each, no code twice. */
     private static void mostDrawers() {
         Check.part("promise 15, the most drawers");
-        ConsonantIndex x = new ConsonantIndex();
+        Index x = new Index();
         x.ear(Check.NONE);
         x.second(0, Check.letter('t'), 7);
         x.set(LENGTH, 5);
@@ -231,7 +231,7 @@ final class QuestionsTest {
 
     private static void count() {
         Check.part("promise 16, count");
-        ConsonantIndex x = Check.withNames("ada", "zoe");
+        Index x = Check.withNames("ada", "zoe");
         x.ear(Check.NONE);
         x.set(LENGTH, 3);
         x.set(ConsonantIndex.NAMES, 20);
@@ -254,7 +254,7 @@ final class QuestionsTest {
 
     private static void alike() {
         Check.part("promise 17, alike");
-        ConsonantIndex x = Check.withNames("tom", "dan", "sam", "cam", "ram", "aa");
+        Index x = Check.withNames("tom", "dan", "sam", "cam", "ram", "aa");
         x.ear(Check.NONE);
         x.second(0, Check.letter('c'), 3);
         boolean[][] due = {
@@ -283,7 +283,7 @@ final class QuestionsTest {
 
     private static void distance() {
         Check.part("promise 18, distance");
-        ConsonantIndex x = Check.withNames("kitten", "sitting", "a", "abcdefghij", "bcdefghija", "zzzzzzzzzz", "ab", "ba");
+        Index x = Check.withNames("kitten", "sitting", "a", "abcdefghij", "bcdefghija", "zzzzzzzzzz", "ab", "ba");
         int[][] due = {
             {0, 3, 6, 9, 10, 10, 6, 6},
             {3, 0, 7, 9, 9, 10, 7, 7},
@@ -309,7 +309,7 @@ final class QuestionsTest {
 
     private static void find() {
         Check.part("promise 19, find");
-        ConsonantIndex x = Check.withNames("tamara", "tom", "sam", "dan", "tim", "cam");
+        Index x = Check.withNames("tamara", "tom", "sam", "dan", "tim", "cam");
         x.ear(Check.NONE);
         x.second(0, Check.letter('c'), 3);
         int[] names = {1, 4, 5, 3};
@@ -329,7 +329,7 @@ final class QuestionsTest {
         Check.due("the pad stays", x.count(4), 3);
         findErrors(x);
         Check.due("a code that no name has", Check.find(x, "rrr", 0, 0, 0), Check.NO_SUCH);
-        ConsonantIndex empty = new ConsonantIndex();
+        Index empty = new Index();
         empty.ear(Check.NONE);
         Check.due("without names", Check.find(empty, "tim", 0, 0, 0), Check.NO_SUCH);
         Check.addName(empty, "tom");
@@ -340,7 +340,7 @@ final class QuestionsTest {
     }
 
     private static void findInFull() {
-        ConsonantIndex full = new ConsonantIndex();
+        Index full = new Index();
         for (int i = 0; i < 24; i++) Check.addName(full, "t" + "aeio".charAt(i / 6) + "m" + "aeiouy".charAt(i % 6));
         full.ear(Check.NONE);
         int rank = 0;
@@ -351,7 +351,7 @@ final class QuestionsTest {
         Check.due("rank 24 of 24", Check.find(full, "tumy", 0, 24, 0), Check.NO_SUCH);
     }
 
-    private static void findErrors(ConsonantIndex x) {
+    private static void findErrors(Index x) {
         for (int far : Check.FAR) {
             Check.asked(x, "find(" + far + ", 0, 0)", () -> x.find(far, 0, 0), Check.NO_SUCH);
             Check.asked(x, "find(0, " + far + ", 0)", () -> x.find(0, far, 0), Check.NO_SUCH);

@@ -6,7 +6,7 @@ import java.util.function.Supplier;
 final class Sentence {
     /** A call, or several ones; the answer is that of the last one. */
     interface Call {
-        int on(ConsonantIndex x);
+        int on(Index x);
     }
 
     record Quote(String section, String words) { }
@@ -27,8 +27,8 @@ final class Sentence {
     }
 
     /** The call is a change with that answer: undo takes it back, and it alone. */
-    static void isChange(Supplier<ConsonantIndex> made, String told, Call call, int want) {
-        ConsonantIndex x = made.get();
+    static void isChange(Supplier<Index> made, String told, Call call, int want) {
+        Index x = made.get();
         String before = Check.pictureWithoutPad(x);
         int changes = x.count(5);
         Check.due(told, call.on(x), want);
@@ -38,10 +38,10 @@ final class Sentence {
     }
 
     /** The call has that answer, and is no change: not even of what only later calls would show. */
-    static void changesNothing(Supplier<ConsonantIndex> made, String told, Call call, int want) {
+    static void changesNothing(Supplier<Index> made, String told, Call call, int want) {
         Check.due(told, call.on(made.get()), want);
-        Supplier<ConsonantIndex> called = () -> {
-            ConsonantIndex x = made.get();
+        Supplier<Index> called = () -> {
+            Index x = made.get();
             call.on(x);
             return x;
         };
@@ -49,8 +49,8 @@ final class Sentence {
     }
 
     /** A picture of all that an object holds: the history, the slots and the mergers are seen by using them up. */
-    private static String wholePicture(Supplier<ConsonantIndex> made) {
-        ConsonantIndex x = made.get();
+    private static String wholePicture(Supplier<Index> made) {
+        Index x = made.get();
         StringBuilder text = new StringBuilder(Check.picture(x));
         while (x.undo() >= 0) text.append("\nundone ").append(Check.pictureWithoutPad(x));
         for (int slot = 0; slot < 2; slot++) {
@@ -62,7 +62,7 @@ final class Sentence {
         return text.toString();
     }
 
-    private static void splitAll(ConsonantIndex x, StringBuilder text) {
+    private static void splitAll(Index x, StringBuilder text) {
         for (int ear = 0; ear < x.count(1); ear++) {
             for (int split = x.split(ear); split >= 0; split = x.split(ear)) {
                 text.append("\nsplit ").append(split);

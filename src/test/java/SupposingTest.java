@@ -12,7 +12,7 @@ final class SupposingTest {
 
     private static void ifMerged() {
         Check.part("promise 20, ifMerged");
-        ConsonantIndex x = Check.withNames("rat", "lat", "ram", "lam", "mal", "at");
+        Index x = Check.withNames("rat", "lat", "ram", "lam", "mal", "at");
         x.ear(Check.NONE);
         Check.asked(x, "ifMerged(0, 4, 6, 0)", () -> x.ifMerged(0, 4, 6, 0), 4);
         Check.asked(x, "ifMerged(0, 4, 6, 1)", () -> x.ifMerged(0, 4, 6, 1), 2);
@@ -43,7 +43,7 @@ final class SupposingTest {
         }
     }
 
-    private static void bestDue(ConsonantIndex x, int ear, int lower, int higher, int pairs) {
+    private static void bestDue(Index x, int ear, int lower, int higher, int pairs) {
         Check.asked(x, "bestMerger(" + ear + ", 0)", () -> x.bestMerger(ear, 0), lower);
         Check.asked(x, "bestMerger(" + ear + ", 1)", () -> x.bestMerger(ear, 1), higher);
         Check.asked(x, "bestMerger(" + ear + ", 2)", () -> x.bestMerger(ear, 2), pairs);
@@ -51,7 +51,7 @@ final class SupposingTest {
 
     private static void bestMerger() {
         Check.part("promise 21, bestMerger");
-        ConsonantIndex x = Check.withNames("ba", "ca", "da", "la", "ma", "bara");
+        Index x = Check.withNames("ba", "ca", "da", "la", "ma", "bara");
         x.ear(Check.NONE);
         // 1, 2, 3, 4, 5, 16: no pair is alike with 6 and any other one merged
         bestDue(x, 0, 1, 6, 0);
@@ -76,7 +76,7 @@ final class SupposingTest {
 
     private static void bestMergerOfFew() {
         Check.part("promise 21, bestMerger of few classes");
-        ConsonantIndex x = new ConsonantIndex();
+        Index x = new Index();
         x.ear(Check.NONE);
         bestDue(x, 0, 1, 2, 0);
         x.merge(0, 0, 1);
@@ -93,7 +93,7 @@ final class SupposingTest {
         x.merge(0, 0, 2);
         bestDue(x, 0, Check.NONE, Check.NONE, Check.NONE);
         // the higher one goes into the lower one: a letter with the lower one as its second class loses it
-        ConsonantIndex y = Check.withNames("ra", "la");
+        Index y = Check.withNames("ra", "la");
         y.ear(Check.NONE);
         for (int kind : new int[] {1, 2, 3, 5}) y.merge(0, 0, kind);
         y.second(0, Check.letter('r'), 4);
@@ -104,7 +104,7 @@ final class SupposingTest {
 
     private static void quarrel() {
         Check.part("promise 22, quarrel");
-        ConsonantIndex x = Check.withNames("tom", "dan", "sam", "ram", "rom");
+        Index x = Check.withNames("tom", "dan", "sam", "ram", "rom");
         x.ear(Check.NONE);
         x.ear(Check.NONE);
         x.merge(1, 3, 2);
@@ -128,7 +128,7 @@ final class SupposingTest {
 
     private static void deafest() {
         Check.part("promise 23, deafest");
-        ConsonantIndex x = Check.withNames("tom", "dan", "sam", "ram");
+        Index x = Check.withNames("tom", "dan", "sam", "ram");
         Check.asked(x, "deafest() without ears", x::deafest, Check.NONE);
         x.ear(Check.NONE);
         Check.asked(x, "deafest() of one", x::deafest, 0);
@@ -143,7 +143,7 @@ final class SupposingTest {
         Check.asked(x, "deafest()", x::deafest, 2);
         x.hear(0, Check.letter('t'), 9);
         Check.asked(x, "deafest()", x::deafest, 2);
-        ConsonantIndex empty = new ConsonantIndex();
+        Index empty = new Index();
         empty.ear(Check.NONE);
         empty.ear(Check.NONE);
         Check.due("deafest() without names", empty.deafest(), 0);

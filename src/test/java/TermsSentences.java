@@ -33,8 +33,8 @@ final class TermsSentences {
     }
 
     /** 24 names, 4 ears, 80 characters, and all that can be remembered. */
-    private static ConsonantIndex full() {
-        ConsonantIndex x = new ConsonantIndex();
+    private static Index full() {
+        Index x = new Index();
         x.ear(Check.NONE);
         x.second(0, Check.letter('t'), 8);
         x.habits(0, 2);
@@ -49,8 +49,8 @@ final class TermsSentences {
     }
 
     /** One name, one ear with one merger, a pad that tells a name, a history of one state, one slot that is saved. */
-    private static ConsonantIndex small() {
-        ConsonantIndex x = Check.withNames("tas");
+    private static Index small() {
+        Index x = Check.withNames("tas");
         x.ear(Check.NONE);
         x.merge(0, 1, 2);
         x.save(1);
@@ -63,7 +63,7 @@ final class TermsSentences {
     private static void errorCodes() {
         Sentence.of("A method that fails returns one of the error codes NO_SUCH (-1), BAD_VALUE (-2), BAD_TEXT (-3), "
             + "TOO_MANY (-4) and NOT_POSSIBLE (-5);");
-        ConsonantIndex x = new ConsonantIndex();
+        Index x = new Index();
         Check.due("drop(0) without names", x.drop(0), -1);
         Check.due("set(0, 0)", x.set(0, 0), -2);
         Check.due("add() of nothing", x.add(), -3);
@@ -72,14 +72,14 @@ final class TermsSentences {
         Check.due("split(0) without mergers", x.split(0), -5);
     }
 
-    private static void due(ConsonantIndex x, String told, Sentence.Call call, int want) {
+    private static void due(Index x, String told, Sentence.Call call, int want) {
         Check.due(told, call.on(x), want);
     }
 
     private static void orderOfErrors() {
         Sentence.of("it names its errors in the order in which they are checked, and the first one that applies is "
             + "returned.");
-        ConsonantIndex x = full();
+        Index x = full();
         due(x, "add() of a fault, at the most names", y -> y.add(), Check.BAD_TEXT);
         due(x, "add() of a name that there is, at the most names", y -> Check.addName(y, "last"), Check.NOT_POSSIBLE);
         due(x, "ear(4), the fifth", y -> y.ear(4), Check.NO_SUCH);
@@ -95,17 +95,17 @@ final class TermsSentences {
         due(x, "habits(4, 8)", y -> y.habits(4, 8), Check.NO_SUCH);
         due(x, "merge(4, 10, 1)", y -> y.merge(4, 10, 1), Check.NO_SUCH);
         due(x, "merge(4, 1, 1)", y -> y.merge(4, 1, 1), Check.NO_SUCH);
-        due(new ConsonantIndex(), "split(0) without ears", y -> y.split(0), Check.NO_SUCH);
+        due(new Index(), "split(0) without ears", y -> y.split(0), Check.NO_SUCH);
         x.wipe();
         for (int i = 0; i < 10; i++) x.put(Check.characters("abcdefgh"));
         due(x, "put(127) on a full pad", y -> y.put(127), Check.BAD_VALUE);
         due(x, "put(0) on a full pad", y -> y.put(0), Check.BAD_VALUE);
-        due(new ConsonantIndex(), "restore(2), nothing saved", y -> y.restore(2), Check.BAD_VALUE);
-        due(new ConsonantIndex(), "restore(-1), nothing saved", y -> y.restore(-1), Check.BAD_VALUE);
+        due(new Index(), "restore(2), nothing saved", y -> y.restore(2), Check.BAD_VALUE);
+        due(new Index(), "restore(-1), nothing saved", y -> y.restore(-1), Check.BAD_VALUE);
     }
 
     private static void orderOfErrorsOfQuestions() {
-        ConsonantIndex x = small();
+        Index x = small();
         due(x, "name(1, 12)", y -> y.name(1, 12), Check.NO_SUCH);
         due(x, "of(1, 0, 3)", y -> y.of(1, 0, 3), Check.NO_SUCH);
         due(x, "of(0, 26, 3)", y -> y.of(0, 26, 3), Check.NO_SUCH);
@@ -128,7 +128,7 @@ final class TermsSentences {
 
     private static void errorsChangeNothing() {
         Sentence.of("A call that returns an error changes nothing.");
-        Supplier<ConsonantIndex> small = TermsSentences::small;
+        Supplier<Index> small = TermsSentences::small;
         Sentence.changesNothing(small, "set(LENGTH, 6)", x -> x.set(LENGTH, 6), Check.BAD_VALUE);
         Sentence.changesNothing(small, "set(NAMES, 25)", x -> x.set(NAMES, 25), Check.BAD_VALUE);
         Sentence.changesNothing(small, "set(2, 3)", x -> x.set(2, 3), Check.BAD_VALUE);
@@ -158,34 +158,34 @@ final class TermsSentences {
     }
 
     private static void errorsChangeNothingInFull() {
-        Supplier<ConsonantIndex> full = TermsSentences::full;
+        Supplier<Index> full = TermsSentences::full;
         Sentence.changesNothing(full, "put(a) on a full pad", x -> x.put('a'), Check.TOO_MANY);
         Sentence.changesNothing(full, "add() of a fault", x -> x.add(), Check.BAD_TEXT);
         Sentence.changesNothing(full, "ear(0), the fifth", x -> x.ear(0), Check.TOO_MANY);
         Sentence.changesNothing(full, "find(0, 0, 0) of a fault", x -> x.find(0, 0, 0), Check.BAD_TEXT);
-        Supplier<ConsonantIndex> fullOfNames = () -> {
-            ConsonantIndex x = full();
+        Supplier<Index> fullOfNames = () -> {
+            Index x = full();
             x.wipe();
             Check.type(x, "new");
             return x;
         };
         Sentence.changesNothing(fullOfNames, "add() at the most names", x -> x.add(), Check.TOO_MANY);
-        Supplier<ConsonantIndex> known = () -> {
-            ConsonantIndex x = small();
+        Supplier<Index> known = () -> {
+            Index x = small();
             x.wipe();
             Check.type(x, "tas");
             return x;
         };
         Sentence.changesNothing(known, "add() of a name that there is", x -> x.add(), Check.NOT_POSSIBLE);
-        Supplier<ConsonantIndex> unmerged = () -> {
-            ConsonantIndex x = new ConsonantIndex();
+        Supplier<Index> unmerged = () -> {
+            Index x = new Index();
             x.ear(Check.NONE);
             x.save(0);
             return x;
         };
         Sentence.changesNothing(unmerged, "split(0) without mergers", x -> x.split(0), Check.NOT_POSSIBLE);
-        Supplier<ConsonantIndex> undone = () -> {
-            ConsonantIndex x = small();
+        Supplier<Index> undone = () -> {
+            Index x = small();
             x.undo();
             return x;
         };
@@ -194,7 +194,7 @@ final class TermsSentences {
 
     private static void noneIsNoError() {
         Sentence.of("NONE (-6) is not an error; it is returned only if no error applies.");
-        ConsonantIndex x = small();
+        Index x = small();
         Check.due("second(0, t, 9)", x.second(0, Check.letter('t'), 9), -6);
         Check.due("it is done", x.of(0, Check.letter('t'), 1), 9);
         Check.due("it is recorded", x.count(5), 2);
@@ -211,12 +211,12 @@ final class TermsSentences {
         Check.due("bestMerger(0, 3)", x.bestMerger(0, 3), Check.BAD_VALUE);
         Check.due("bestMerger(1, 2)", x.bestMerger(1, 2), Check.NO_SUCH);
         Check.due("fault() of none", x.fault(), -6);
-        Check.due("deafest() without ears", new ConsonantIndex().deafest(), -6);
+        Check.due("deafest() without ears", new Index().deafest(), -6);
     }
 
     private static void numberedFromZero() {
         Sentence.of("Everything is numbered from 0.");
-        ConsonantIndex x = new ConsonantIndex();
+        Index x = new Index();
         Check.due("the first name", Check.addName(x, "tas"), 0);
         Check.due("the second name", Check.addName(x, "b"), 1);
         Check.due("the first ear", x.ear(Check.NONE), 0);
@@ -235,7 +235,7 @@ final class TermsSentences {
 
     private static void setsAreMasks() {
         Sentence.of("Sets of letters, names and ears are bit masks (the letter a is the lowest bit).");
-        ConsonantIndex x = Check.withNames("a", "z", "bz", "t");
+        Index x = Check.withNames("a", "z", "bz", "t");
         x.ear(Check.NONE);
         int[] sets = {1, 33554432, 33554434, 524288};
         for (int name = 0; name < 4; name++) Check.due("name(" + name + ", 11)", x.name(name, 11), sets[name]);
@@ -250,7 +250,7 @@ final class TermsSentences {
 
     private static void length() {
         Sentence.of("(In parentheses: range; first value.) LENGTH (1 to 5; 4): the greatest length of a code;");
-        ConsonantIndex x = Check.withNames("bcdlmr", "bc");
+        Index x = Check.withNames("bcdlmr", "bc");
         x.ear(Check.NONE);
         Check.due("the first value", x.count(2), 4);
         Check.due("the first value", Check.codes(x, 0, 0), "1 2 3 4");
@@ -271,7 +271,7 @@ final class TermsSentences {
 
     private static void names() {
         Sentence.of("NAMES (1 to 24; 24): names that there may be.");
-        ConsonantIndex x = new ConsonantIndex();
+        Index x = new Index();
         Check.due("the first value", x.count(3), 24);
         Check.due("one too small", x.set(NAMES, 0), Check.BAD_VALUE);
         Check.due("one too large", x.set(NAMES, 25), Check.BAD_VALUE);
@@ -288,7 +288,7 @@ final class TermsSentences {
 
     private static void lettersOfNames() {
         Sentence.of("A name has 1 to 10 letters, a to z, told as 0 to 25.");
-        ConsonantIndex x = Check.withNames("abcdefghij", "klmnopqrst", "uvwxyz");
+        Index x = Check.withNames("abcdefghij", "klmnopqrst", "uvwxyz");
         for (int letter = 0; letter < 26; letter++) {
             Check.due("letter " + letter, x.name(letter / 10, letter % 10 + 1), letter);
         }
@@ -306,7 +306,7 @@ final class TermsSentences {
     private static void asManyAsNames() {
         Sentence.of("There are up to NAMES names,");
         for (int most = 1; most <= 24; most++) {
-            ConsonantIndex x = new ConsonantIndex();
+            Index x = new Index();
             x.set(NAMES, most);
             for (int i = 0; i < most; i++) Check.due("add()", Check.addName(x, "n" + (char) ('a' + i)), i);
             Check.due("add() of one more than " + most, Check.addName(x, "more"), Check.TOO_MANY);
@@ -314,7 +314,7 @@ final class TermsSentences {
         }
     }
 
-    private static void namesDue(ConsonantIndex x, String... names) {
+    private static void namesDue(Index x, String... names) {
         Check.due("count(0)", x.count(0), names.length);
         for (int i = 0; i < names.length; i++) Check.due("name " + i, Check.nameAt(x, i), names[i]);
         Check.due("name(" + names.length + ", 0)", x.name(names.length, 0), Check.NO_SUCH);
@@ -323,7 +323,7 @@ final class TermsSentences {
     private static void numbersOfNames() {
         Sentence.of("numbered in the order in which they came (when one is dropped, those behind it have numbers that are "
             + "less by 1),");
-        ConsonantIndex x = Check.withNames("zoe", "ada", "mia", "ben", "ida");
+        Index x = Check.withNames("zoe", "ada", "mia", "ben", "ida");
         namesDue(x, "zoe", "ada", "mia", "ben", "ida");
         x.drop(2);
         namesDue(x, "zoe", "ada", "ben", "ida");
@@ -333,7 +333,7 @@ final class TermsSentences {
         namesDue(x, "ada", "ben");
         Check.addName(x, "zoe");
         namesDue(x, "ada", "ben", "zoe");
-        ConsonantIndex full = full();
+        Index full = full();
         full.drop(0);
         for (int i = 0; i < 22; i++) Check.due("name " + i, Check.nameAt(full, i), "t" + (char) ('b' + i) + "s");
         Check.due("name 22", Check.nameAt(full, 22), "last");
@@ -342,7 +342,7 @@ final class TermsSentences {
 
     private static void noTwoTheSame() {
         Sentence.of("no two the same.");
-        ConsonantIndex x = Check.withNames("ada", "ad", "adaa", "abcdefghij");
+        Index x = Check.withNames("ada", "ad", "adaa", "abcdefghij");
         namesDue(x, "ada", "ad", "adaa", "abcdefghij");
         for (String name : new String[] {"ada", "ad", "adaa", "abcdefghij"}) {
             Check.due("add() of " + name + " again", Check.addName(x, name), Check.NOT_POSSIBLE);
@@ -356,7 +356,7 @@ final class TermsSentences {
     }
 
     private static void distanceDue(String one, String other, int want) {
-        ConsonantIndex x = Check.withNames(one, other);
+        Index x = Check.withNames(one, other);
         Check.due(one + " to " + other, x.distance(0, 1), want);
         Check.due(other + " to " + one, x.distance(1, 0), want);
     }
@@ -381,13 +381,13 @@ final class TermsSentences {
         distanceDue("abcdefghij", "bcdefghijk", 2);
         distanceDue("abcdefghij", "jihgfedcba", 10);
         distanceDue("ababababab", "bababababa", 2);
-        ConsonantIndex x = Check.withNames("abcdefghij");
+        Index x = Check.withNames("abcdefghij");
         Check.due("a name to itself", x.distance(0, 0), 0);
     }
 
     private static void longestPad() {
         Sentence.of("The pad is a text of at most 80 characters.");
-        ConsonantIndex x = new ConsonantIndex();
+        Index x = new Index();
         for (int i = 1; i <= 80; i++) Check.due("put(~)", x.put('~'), i);
         Check.due("put(~), the 81st", x.put('~'), Check.TOO_MANY);
         Check.due("count(4)", x.count(4), 80);
@@ -401,16 +401,16 @@ final class TermsSentences {
         StringBuilder text = new StringBuilder();
         for (int size = 1; size <= 10; size++) {
             text.append((char) ('z' + 1 - size));
-            ConsonantIndex x = new ConsonantIndex();
+            Index x = new Index();
             Check.due("add() of " + text, Check.addName(x, text.toString()), 0);
             Check.due("the name", Check.nameAt(x, 0), text.toString());
         }
         for (int code = 33; code <= 126; code++) {
-            ConsonantIndex x = new ConsonantIndex();
+            Index x = new Index();
             x.put(code);
             Check.due("add() of the character " + code, x.add(), code >= 'a' && code <= 'z' ? 0 : Check.BAD_TEXT);
         }
-        ConsonantIndex x = new ConsonantIndex();
+        Index x = new Index();
         Check.due("add() of none", x.add(), Check.BAD_TEXT);
         Check.due("add() of eleven", Check.addName(x, "abcdefghijk"), Check.BAD_TEXT);
         for (int i = 0; i < 10; i++) x.put(Check.characters("abcdefgh"));
@@ -418,7 +418,7 @@ final class TermsSentences {
     }
 
     private static void faultDue(String text, int want) {
-        ConsonantIndex x = new ConsonantIndex();
+        Index x = new Index();
         Check.type(x, text);
         Check.due("fault() of " + text, x.fault(), want);
     }
@@ -446,7 +446,7 @@ final class TermsSentences {
 
     private static void faultOfNothing() {
         Sentence.of("if there is none, and the text is empty, it is 0.");
-        ConsonantIndex x = new ConsonantIndex();
+        Index x = new Index();
         Check.due("fault() of a new object", x.fault(), 0);
         x.put('!');
         x.wipe();
@@ -469,7 +469,7 @@ final class TermsSentences {
         Sentence.of("LENGTH = 0, NAMES = 1: Settings.");
         Check.due("LENGTH", ConsonantIndex.LENGTH, 0);
         Check.due("NAMES", ConsonantIndex.NAMES, 1);
-        ConsonantIndex x = new ConsonantIndex();
+        Index x = new Index();
         x.set(0, 3);
         x.set(1, 5);
         Check.due("count(2)", x.count(2), 3);

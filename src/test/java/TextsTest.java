@@ -11,7 +11,7 @@ final class TextsTest {
 
     private static void put() {
         Check.part("promise 24, put");
-        ConsonantIndex x = new ConsonantIndex();
+        Index x = new Index();
         Check.due("put of a", x.put('a'), 1);
         Check.due("put of eight", x.put(Check.characters("bcdefghi")), 9);
         Check.due("count(4)", x.count(4), 9);
@@ -33,7 +33,7 @@ final class TextsTest {
 
     private static void putLimits() {
         Check.part("promise 24, put at the longest pad");
-        ConsonantIndex x = new ConsonantIndex();
+        Index x = new Index();
         for (int i = 1; i <= 9; i++) Check.due("put of eight", x.put(Check.characters("abcdefgh")), 8 * i);
         Check.due("put of three", x.put(Check.characters("abc")), 75);
         Check.refused(x, "put of six", () -> x.put(Check.characters("abcdef")), Check.TOO_MANY);
@@ -47,7 +47,7 @@ final class TextsTest {
 
     private static void wipe() {
         Check.part("promise 25, wipe");
-        ConsonantIndex x = Check.withNames("ada");
+        Index x = Check.withNames("ada");
         Check.due("wipe() of nothing", x.wipe(), 0);
         Check.type(x, "abcdefghijkl");
         Check.due("wipe()", x.wipe(), 12);
@@ -60,7 +60,7 @@ final class TextsTest {
     }
 
     private static void faultDue(String text, int due) {
-        ConsonantIndex x = new ConsonantIndex();
+        Index x = new Index();
         Check.type(x, text);
         Check.asked(x, "fault() of " + text, x::fault, due);
     }
